@@ -155,7 +155,7 @@ public final class BayerGate {
         needFrame(frame);
         needPlace(x, y);
         needRange(colour, RED, BLUE);
-        developFrame(frame, frameRow[frame].edits, developed);
+        developFrame(frame, developed);
         return developed.numbers[Picture.indexOf(placeOf(x, y), colour)];
     }
 
@@ -266,8 +266,8 @@ public final class BayerGate {
     public double apart(int one, int other) throws IndexOutOfBoundsException {
         needFrame(one);
         needFrame(other);
-        developFrame(one, frameRow[one].edits, developed);
-        developFrame(other, frameRow[other].edits, compared);
+        developFrame(one, developed);
+        developFrame(other, compared);
         return developed.farthestFrom(compared);
     }
 
@@ -429,13 +429,15 @@ public final class BayerGate {
         return count;
     }
 
-    private void developFrame(int frame, EditRow edits, Picture into) {
-        into.compose(frameRow[frame].rawRow, edits, sensor.mapped);
+    private void developFrame(int frame, Picture into) {
+        Frame asked = frameRow[frame];
+        into.compose(asked.rawRow, asked.edits, sensor.mapped);
         into.bound();
     }
 
     private int wordBehind(int frame, EditRow edits) {
-        developFrame(frame, edits, developed);
+        developed.compose(frameRow[frame].rawRow, edits, sensor.mapped);
+        developed.bound();
         return developed.sumUp();
     }
 

@@ -51,6 +51,7 @@ public final class AskedTest {
     private static void sharp() {
         Checks.same("sharp, dark", Cameras.withHot().ofFrame(0, 5), 0);
         Checks.same("sharp, a pair's first", Cameras.withHot(1, 0).ofFrame(0, 5), 255);
+        Checks.same("sharp, first column", Cameras.withHot(0, 1).ofFrame(0, 5), 255);
         Checks.same("sharp, in two pairs", Cameras.withHot(3, 2).ofFrame(0, 5), 510);
         Checks.same("sharp, last column", Cameras.withHot(7, 2).ofFrame(0, 5), 255);
         Checks.same("sharp, last row", Cameras.withHot(2, 7).ofFrame(0, 5), 255);
@@ -245,6 +246,14 @@ public final class AskedTest {
         third.edit(2, 0, 64);
         third.edit(2, 0, 13);
         Checks.same("apart of a black one", third.apart(2, 1), 50.0);
+        BayerGate first = Cameras.withHot(0, 0);
+        Cameras.takeHot(first);
+        Checks.same("apart in the first number", first.apart(0, 1), 255.0);
+        for (int k = 0; k < 4; k++) {
+            first.edit(0, 1, 1);
+        }
+        Checks.same("apart by less than 1", first.apart(0, 1), 0.99609375);
+        Checks.same("apart by less than 1, turned", first.apart(1, 0), 0.99609375);
         for (int wrong : FAR) {
             Checks.refused(camera, "apart one", Cameras.INDEX, () -> camera.apart(wrong, 0));
             Checks.refused(camera, "apart other", Cameras.INDEX, () -> camera.apart(0, wrong));

@@ -88,6 +88,7 @@ public final class PicturesTest {
         Checks.same("warm 7", red22(1, 7), 223.125);
         Checks.same("warm 16", red22(1, 16), 255.0);
         Checks.same("cool leaves red", red22(2, 1), 127.5);
+        Checks.same("warm to 255.125", red22(0, 49, 1, 13), 255.0);
         Checks.same("tone 0", red22(3, 0), 63.75);
         Checks.same("tone 1", red22(3, 1), 255.0);
         Checks.same("tone 2", red22(3, 2), 127.5);
@@ -133,6 +134,11 @@ public final class PicturesTest {
         BayerGate edge = Cameras.withHot(7, 7);
         edge.edit(0, 4, 0);
         Checks.same("flipped from edge to edge", edge.picture(0, 0, 7, 2), 255.0);
+        BayerGate first = Cameras.withHot(0, 0);
+        first.edit(0, 0, 5);
+        Checks.same("black in the first place", first.picture(0, 0, 0, 0), 250.0);
+        first.edit(0, 4, 0);
+        Checks.same("flipped in the first row", first.picture(0, 7, 0, 0), 250.0);
     }
 
     private static void mend() {
@@ -231,5 +237,13 @@ public final class PicturesTest {
         tones[3 * (8 * 6 + 7) + 2] = 127;
         tones[3 * (8 * 6 + 6) + 2] = 191;
         Checks.same("word behind an edit", camera.word(0), wordOf(tones));
+        camera.edit(0, 3, 1);
+        camera.edit(0, 3, 2);
+        // 510, 255 and 382.5 turned are below 0; 0 turned is 255.
+        java.util.Arrays.fill(tones, 0);
+        tones[3 * (8 * 7 + 7) + 2] = 255;
+        Checks.same("word within the bounds below", camera.word(0), wordOf(tones));
+        camera.edit(0, 3, 1);
+        Checks.same("word within the bounds above", camera.word(0), wordOf(tones));
     }
 }

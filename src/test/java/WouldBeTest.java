@@ -61,6 +61,13 @@ public final class WouldBeTest {
         Checks.same("best for 10", camera.bestTake(base + 10), 16 + 5);
         Checks.same("best for 14", camera.bestTake(base + 14), 16 + 7);
         Checks.same("best for 0", camera.bestTake(0), 16 + 1);
+        camera.paint(0, 0, 7, 7, 4 * 256);
+        // 16 by a time of 64, and eight times that.
+        Checks.same("best by the highest gain", camera.bestTake(base + 128), 16 * 64 + 8);
+        camera.paint(0, 0, 7, 7, 0);
+        camera.paint(1, 0, 1, 0, 32 * 256);
+        // 15.5625 in the dark, and a sixteenth more for each of time times gain.
+        Checks.same("best by less than 1", camera.bestTake(16), 16 + 7);
         camera.take(1, 1);
         BayerGate full = Cameras.full();
         full.paint(0, 0, 7, 7, 0xffffff);
@@ -126,6 +133,11 @@ public final class WouldBeTest {
         greens.edit(0, 1, 1);
         // 63.75 of red, cut behind the edit: 16 gives 255.
         Checks.same("the greatest", greens.bestWhite(0, 1), 16);
+        greens.undo(0);
+        greens.edit(0, 3, 0);
+        Checks.same("of 127 each", greens.bestWhite(0, 1), 4);
+        // Greens of 255, 85 and 85; reds of 255, 127.5 twice and 63.75, by 3 / 4 191, 95 twice and 47.
+        Checks.same("in the first place", Cameras.withHot(0, 0, 7, 0).bestWhite(0, 1), 3);
     }
 
     private static void bestWhiteRefused() {
@@ -147,7 +159,7 @@ public final class WouldBeTest {
         }
         Checks.same("digest of a new one", new BayerGate().digest(), d);
         BayerGate camera = new BayerGate();
-        camera.paint(0, 0, 7, 7, 245 * (1 + 256 + 65536));
+        camera.paint(0, 0, 7, 7, 239 * (1 + 256 + 65536));
         camera.paint(2, 3, 4, 5, 0x123456);
         camera.spoil(3, 3, 2);
         camera.spoil(4, 4, 1);
@@ -159,6 +171,8 @@ public final class WouldBeTest {
         camera.edit(1, 3, 2);
         camera.save(2);
         camera.save(1);
+        Checks.same("clips otherwise by a longer time", camera.wouldClip(16, 1) < camera.wouldClip(17, 1), true);
+        Checks.same("clips otherwise by a higher gain", camera.wouldClip(16, 1) < camera.wouldClip(16, 2), true);
         Checks.same("digest", camera.digest(), digestOf(camera));
         Checks.keeps(camera, "digest", camera::digest);
     }
