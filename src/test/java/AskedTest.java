@@ -17,8 +17,8 @@ public final class AskedTest {
     }
 
     private static void ofFrame() {
-        BayerGate camera = new BayerGate();
-        Checks.refused(camera, "ofFrame of none", Cameras.INDEX, () -> camera.ofFrame(0, 9));
+        Camera camera = new Camera();
+        Checks.refused(camera, "ofFrame of none", Cameras.INDEX, c -> c.ofFrame(0, 9));
         camera.spoil(1, 1, 2);
         camera.take(64, 8);
         camera.take(1, 2);
@@ -35,15 +35,15 @@ public final class AskedTest {
         Checks.same("files of the first", camera.ofFrame(0, 8), 2);
         Checks.same("files of the second", camera.ofFrame(1, 8), 1);
         for (int wrong : FAR) {
-            Checks.refused(camera, "ofFrame frame " + wrong, Cameras.INDEX, () -> camera.ofFrame(wrong, 9));
+            Checks.refused(camera, "ofFrame frame " + wrong, Cameras.INDEX, c -> c.ofFrame(wrong, 9));
         }
-        Checks.refused(camera, "ofFrame 2", Cameras.INDEX, () -> camera.ofFrame(2, 0));
+        Checks.refused(camera, "ofFrame 2", Cameras.INDEX, c -> c.ofFrame(2, 0));
         for (int wrong : new int[] {-1, 9, Integer.MIN_VALUE, Integer.MAX_VALUE}) {
-            Checks.refused(camera, "ofFrame what " + wrong, Cameras.ARGUMENT, () -> camera.ofFrame(0, wrong));
+            Checks.refused(camera, "ofFrame what " + wrong, Cameras.ARGUMENT, c -> c.ofFrame(0, wrong));
         }
         for (int what = 0; what <= 8; what++) {
             int asked = what;
-            Checks.keeps(camera, "ofFrame " + what, () -> camera.ofFrame(0, asked));
+            Checks.keeps(camera, "ofFrame " + what, c -> c.ofFrame(0, asked));
         }
         Checks.same("clipped, by raw alone", Cameras.withHot(0, 0, 3, 4, 7, 7).ofFrame(0, 3), 3);
     }
@@ -62,7 +62,7 @@ public final class AskedTest {
     }
 
     private static void white() {
-        BayerGate camera = new BayerGate();
+        Camera camera = new Camera();
         Cameras.takeColours(camera, true, true, true);
         Cameras.takeColours(camera, false, true, true);
         Cameras.takeColours(camera, true, false, true);
@@ -82,10 +82,10 @@ public final class AskedTest {
     }
 
     private static void ofEdit() {
-        BayerGate camera = new BayerGate();
-        Checks.refused(camera, "ofEdit of none", Cameras.INDEX, () -> camera.ofEdit(0, 0, 2));
+        Camera camera = new Camera();
+        Checks.refused(camera, "ofEdit of none", Cameras.INDEX, c -> c.ofEdit(0, 0, 2));
         camera.take(1, 1);
-        Checks.refused(camera, "ofEdit without edits", Cameras.INDEX, () -> camera.ofEdit(0, 0, 2));
+        Checks.refused(camera, "ofEdit without edits", Cameras.INDEX, c -> c.ofEdit(0, 0, 2));
         camera.edit(0, 0, 33);
         camera.edit(0, 2, 5);
         Checks.same("kind of the first", camera.ofEdit(0, 0, 0), 0);
@@ -93,21 +93,21 @@ public final class AskedTest {
         Checks.same("kind of the second", camera.ofEdit(0, 1, 0), 2);
         Checks.same("number of the second", camera.ofEdit(0, 1, 1), 5);
         for (int wrong : FAR) {
-            Checks.refused(camera, "ofEdit frame", Cameras.INDEX, () -> camera.ofEdit(wrong, 0, 2));
-            Checks.refused(camera, "ofEdit edit", Cameras.INDEX, () -> camera.ofEdit(0, wrong, 2));
-            Checks.refused(camera, "ofEdit what", Cameras.ARGUMENT, () -> camera.ofEdit(0, 0, wrong));
+            Checks.refused(camera, "ofEdit frame", Cameras.INDEX, c -> c.ofEdit(wrong, 0, 2));
+            Checks.refused(camera, "ofEdit edit", Cameras.INDEX, c -> c.ofEdit(0, wrong, 2));
+            Checks.refused(camera, "ofEdit what", Cameras.ARGUMENT, c -> c.ofEdit(0, 0, wrong));
         }
-        Checks.refused(camera, "ofEdit frame 1", Cameras.INDEX, () -> camera.ofEdit(1, 0, 0));
-        Checks.refused(camera, "ofEdit edit 2", Cameras.INDEX, () -> camera.ofEdit(0, 2, 0));
-        Checks.refused(camera, "ofEdit what 2", Cameras.ARGUMENT, () -> camera.ofEdit(0, 1, 2));
-        Checks.keeps(camera, "ofEdit", () -> camera.ofEdit(0, 1, 1));
+        Checks.refused(camera, "ofEdit frame 1", Cameras.INDEX, c -> c.ofEdit(1, 0, 0));
+        Checks.refused(camera, "ofEdit edit 2", Cameras.INDEX, c -> c.ofEdit(0, 2, 0));
+        Checks.refused(camera, "ofEdit what 2", Cameras.ARGUMENT, c -> c.ofEdit(0, 1, 2));
+        Checks.keeps(camera, "ofEdit", c -> c.ofEdit(0, 1, 1));
         camera.undo(0);
-        Checks.refused(camera, "ofEdit, taken back", Cameras.INDEX, () -> camera.ofEdit(0, 1, 0));
+        Checks.refused(camera, "ofEdit, taken back", Cameras.INDEX, c -> c.ofEdit(0, 1, 0));
     }
 
     private static void zoneAndMeter() {
         // One green in zone 0, two in 1, four in 2, none in 3; and others that do not count.
-        BayerGate camera = Cameras.withHot(3, 2, 4, 1, 7, 0, 0, 5, 3, 4, 1, 6, 2, 7, 0, 0, 4, 4, 7, 7, 3, 3);
+        Camera camera = Cameras.withHot(3, 2, 4, 1, 7, 0, 0, 5, 3, 4, 1, 6, 2, 7, 0, 0, 4, 4, 7, 7, 3, 3);
         double[] due = {31.875, 63.75, 127.5, 0.0};
         for (int zone = 0; zone < 4; zone++) {
             Checks.same("zone " + zone, camera.zone(0, zone), due[zone]);
@@ -115,34 +115,34 @@ public final class AskedTest {
         Checks.same("meter", camera.meter(0), 55.78125);
         camera.edit(0, 3, 2);
         Checks.same("meter, by raw alone", camera.meter(0), 55.78125);
-        BayerGate last = Cameras.withHot(4, 5);
+        Camera last = Cameras.withHot(4, 5);
         Checks.same("zone 3", last.zone(0, 3), 31.875);
         Checks.same("meter of zone 3", last.meter(0), 7.96875);
-        BayerGate bright = new BayerGate();
+        Camera bright = new Camera();
         Cameras.takeColours(bright, true, true, true);
         Checks.same("meter, most", bright.meter(0), 255.0);
-        Checks.keeps(bright, "zone", () -> bright.zone(0, 0));
-        Checks.keeps(bright, "meter", () -> bright.meter(0));
+        Checks.keeps(bright, "zone", c -> c.zone(0, 0));
+        Checks.keeps(bright, "meter", c -> c.meter(0));
     }
 
     private static void zoneRefused() {
-        BayerGate camera = new BayerGate();
-        Checks.refused(camera, "zone of none", Cameras.INDEX, () -> camera.zone(0, 0));
-        Checks.refused(camera, "meter of none", Cameras.INDEX, () -> camera.meter(0));
+        Camera camera = new Camera();
+        Checks.refused(camera, "zone of none", Cameras.INDEX, c -> c.zone(0, 0));
+        Checks.refused(camera, "meter of none", Cameras.INDEX, c -> c.meter(0));
         camera.take(1, 1);
         for (int wrong : FAR) {
-            Checks.refused(camera, "zone frame", Cameras.INDEX, () -> camera.zone(wrong, 0));
-            Checks.refused(camera, "zone zone", Cameras.INDEX, () -> camera.zone(0, wrong));
-            Checks.refused(camera, "meter frame", Cameras.INDEX, () -> camera.meter(wrong));
+            Checks.refused(camera, "zone frame", Cameras.INDEX, c -> c.zone(wrong, 0));
+            Checks.refused(camera, "zone zone", Cameras.INDEX, c -> c.zone(0, wrong));
+            Checks.refused(camera, "meter frame", Cameras.INDEX, c -> c.meter(wrong));
         }
-        Checks.refused(camera, "zone frame 1", Cameras.INDEX, () -> camera.zone(1, 0));
-        Checks.refused(camera, "zone 4", Cameras.INDEX, () -> camera.zone(0, 4));
-        Checks.refused(camera, "meter frame 1", Cameras.INDEX, () -> camera.meter(1));
+        Checks.refused(camera, "zone frame 1", Cameras.INDEX, c -> c.zone(1, 0));
+        Checks.refused(camera, "zone 4", Cameras.INDEX, c -> c.zone(0, 4));
+        Checks.refused(camera, "meter frame 1", Cameras.INDEX, c -> c.meter(1));
     }
 
     private static void ofFile() {
-        BayerGate camera = Cameras.withHot(2, 2);
-        Checks.refused(camera, "ofFile of none", Cameras.INDEX, () -> camera.ofFile(0, 4));
+        Camera camera = Cameras.withHot(2, 2);
+        Checks.refused(camera, "ofFile of none", Cameras.INDEX, c -> c.ofFile(0, 4));
         Cameras.takeHot(camera, 4, 4);
         camera.edit(1, 5, 0);
         camera.edit(1, 4, 0);
@@ -165,16 +165,16 @@ public final class AskedTest {
         Checks.same("just as the frame's", camera.ofFile(0, 3), camera.word(1));
         Checks.same("not without a mend", camera.ofFile(1, 3), camera.word(0));
         for (int wrong : FAR) {
-            Checks.refused(camera, "ofFile file", Cameras.INDEX, () -> camera.ofFile(wrong, 4));
-            Checks.refused(camera, "ofFile what", Cameras.ARGUMENT, () -> camera.ofFile(0, wrong));
+            Checks.refused(camera, "ofFile file", Cameras.INDEX, c -> c.ofFile(wrong, 4));
+            Checks.refused(camera, "ofFile what", Cameras.ARGUMENT, c -> c.ofFile(0, wrong));
         }
-        Checks.refused(camera, "ofFile file 3", Cameras.INDEX, () -> camera.ofFile(3, 0));
-        Checks.refused(camera, "ofFile what 4", Cameras.ARGUMENT, () -> camera.ofFile(2, 4));
-        Checks.keeps(camera, "ofFile", () -> camera.ofFile(0, 3));
+        Checks.refused(camera, "ofFile file 3", Cameras.INDEX, c -> c.ofFile(3, 0));
+        Checks.refused(camera, "ofFile what 4", Cameras.ARGUMENT, c -> c.ofFile(2, 4));
+        Checks.keeps(camera, "ofFile", c -> c.ofFile(0, 3));
     }
 
     private static void ofPlace() {
-        BayerGate camera = new BayerGate();
+        Camera camera = new Camera();
         camera.paint(5, 2, 5, 2, 1 + 256 * 2 + 65536 * 255);
         camera.spoil(5, 2, 2);
         camera.map(5, 2, true);
@@ -183,7 +183,7 @@ public final class AskedTest {
             int asked = what;
             Checks.same("ofPlace " + what, camera.ofPlace(5, 2, what), due[what]);
             Checks.same("ofPlace, turned, " + what, camera.ofPlace(2, 5, what), what == 3 ? 1 : 0);
-            Checks.keeps(camera, "ofPlace " + what, () -> camera.ofPlace(5, 2, asked));
+            Checks.keeps(camera, "ofPlace " + what, c -> c.ofPlace(5, 2, asked));
         }
         for (int place = 0; place < 64; place++) {
             int x = place % 8;
@@ -191,16 +191,16 @@ public final class AskedTest {
             Checks.same("colour seen at " + x + " " + y, camera.ofPlace(x, y, 3), x % 2 + y % 2);
         }
         for (int wrong : new int[] {-1, 8, Integer.MIN_VALUE, Integer.MAX_VALUE}) {
-            Checks.refused(camera, "ofPlace x", Cameras.INDEX, () -> camera.ofPlace(wrong, 0, 6));
-            Checks.refused(camera, "ofPlace y", Cameras.INDEX, () -> camera.ofPlace(0, wrong, 0));
+            Checks.refused(camera, "ofPlace x", Cameras.INDEX, c -> c.ofPlace(wrong, 0, 6));
+            Checks.refused(camera, "ofPlace y", Cameras.INDEX, c -> c.ofPlace(0, wrong, 0));
         }
         for (int wrong : FAR) {
-            Checks.refused(camera, "ofPlace what", Cameras.ARGUMENT, () -> camera.ofPlace(0, 0, wrong));
+            Checks.refused(camera, "ofPlace what", Cameras.ARGUMENT, c -> c.ofPlace(0, 0, wrong));
         }
     }
 
     private static void many() {
-        BayerGate camera = new BayerGate();
+        Camera camera = new Camera();
         camera.spoil(0, 0, 1);
         camera.spoil(1, 0, 2);
         camera.spoil(2, 0, 2);
@@ -219,15 +219,15 @@ public final class AskedTest {
         for (int what = 0; what <= 6; what++) {
             int asked = what;
             Checks.same("many " + what, camera.many(what), due[what]);
-            Checks.keeps(camera, "many " + what, () -> camera.many(asked));
+            Checks.keeps(camera, "many " + what, c -> c.many(asked));
         }
         for (int wrong : new int[] {-1, 7, Integer.MIN_VALUE, Integer.MAX_VALUE}) {
-            Checks.refused(camera, "many " + wrong, Cameras.ARGUMENT, () -> camera.many(wrong));
+            Checks.refused(camera, "many " + wrong, Cameras.ARGUMENT, c -> c.many(wrong));
         }
     }
 
     private static void apart() {
-        BayerGate camera = Cameras.withHot();
+        Camera camera = Cameras.withHot();
         Checks.same("apart, the same", camera.apart(0, 0), 0.0);
         Cameras.takeHot(camera, 7, 7);
         Checks.same("apart", camera.apart(0, 1), 255.0);
@@ -239,14 +239,14 @@ public final class AskedTest {
         camera.edit(0, 3, 1);
         Checks.same("apart within the bounds", camera.apart(1, 0), 255.0);
         // A frame of 127 at (1, 0): a third of it beside, and the greatest where it is.
-        BayerGate third = Cameras.withHot(1, 0);
+        Camera third = Cameras.withHot(1, 0);
         Cameras.takeHot(third);
         third.merge(3, 255);
         Checks.same("apart of a merged one", third.apart(1, 2), 127.0);
         third.edit(2, 0, 64);
         third.edit(2, 0, 13);
         Checks.same("apart of a black one", third.apart(2, 1), 50.0);
-        BayerGate first = Cameras.withHot(0, 0);
+        Camera first = Cameras.withHot(0, 0);
         Cameras.takeHot(first);
         Checks.same("apart in the first number", first.apart(0, 1), 255.0);
         for (int k = 0; k < 4; k++) {
@@ -255,13 +255,13 @@ public final class AskedTest {
         Checks.same("apart by less than 1", first.apart(0, 1), 0.99609375);
         Checks.same("apart by less than 1, turned", first.apart(1, 0), 0.99609375);
         for (int wrong : FAR) {
-            Checks.refused(camera, "apart one", Cameras.INDEX, () -> camera.apart(wrong, 0));
-            Checks.refused(camera, "apart other", Cameras.INDEX, () -> camera.apart(0, wrong));
+            Checks.refused(camera, "apart one", Cameras.INDEX, c -> c.apart(wrong, 0));
+            Checks.refused(camera, "apart other", Cameras.INDEX, c -> c.apart(0, wrong));
         }
-        Checks.refused(camera, "apart 2", Cameras.INDEX, () -> camera.apart(0, 2));
-        Checks.refused(camera, "apart 2, turned", Cameras.INDEX, () -> camera.apart(2, 0));
-        BayerGate none = new BayerGate();
-        Checks.refused(none, "apart of none", Cameras.INDEX, () -> none.apart(0, 0));
-        Checks.keeps(camera, "apart", () -> camera.apart(0, 1));
+        Checks.refused(camera, "apart 2", Cameras.INDEX, c -> c.apart(0, 2));
+        Checks.refused(camera, "apart 2, turned", Cameras.INDEX, c -> c.apart(2, 0));
+        Camera none = new Camera();
+        Checks.refused(none, "apart of none", Cameras.INDEX, c -> c.apart(0, 0));
+        Checks.keeps(camera, "apart", c -> c.apart(0, 1));
     }
 }

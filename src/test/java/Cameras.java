@@ -9,14 +9,14 @@ final class Cameras {
     }
 
     /** Spoils each place alike. */
-    static void spoilAll(BayerGate camera, int how) {
+    static void spoilAll(Camera camera, int how) {
         for (int place = 0; place < 64; place++) {
             camera.spoil(place % 8, place / 8, how);
         }
     }
 
     /** One more frame: 255 in the places told as pairs x, y, and 0 elsewhere. */
-    static int takeHot(BayerGate camera, int... places) {
+    static int takeHot(Camera camera, int... places) {
         spoilAll(camera, 1);
         for (int k = 0; k < places.length; k += 2) {
             camera.spoil(places[k], places[k + 1], 2);
@@ -25,7 +25,7 @@ final class Cameras {
     }
 
     /** One more frame, 255 in all places of the colours told, and 0 elsewhere. */
-    static int takeColours(BayerGate camera, boolean red, boolean green, boolean blue) {
+    static int takeColours(Camera camera, boolean red, boolean green, boolean blue) {
         boolean[] is = {red, green, blue};
         for (int place = 0; place < 64; place++) {
             int x = place % 8;
@@ -35,15 +35,15 @@ final class Cameras {
         return camera.take(1, 1);
     }
 
-    static BayerGate withHot(int... places) {
-        BayerGate camera = new BayerGate();
+    static Camera withHot(int... places) {
+        Camera camera = new Camera();
         takeHot(camera, places);
         return camera;
     }
 
     /** Six frames: dark ones of a dark scene. */
-    static BayerGate full() {
-        BayerGate camera = new BayerGate();
+    static Camera full() {
+        Camera camera = new Camera();
         for (int k = 0; k < 6; k++) {
             camera.take(1, 1);
         }

@@ -6,31 +6,61 @@ final class Checks {
         Object run();
     }
 
+    interface Told {
+        Object told(Camera camera, int number);
+    }
+
     private static int made = 0;
     private static int wrong = 0;
+    private static String about = "";
 
     private Checks() {
+    }
+
+    /** What stands ahead of each line that tells a wrong answer. */
+    static void about(String text) {
+        about = text;
+    }
+
+    static int made() {
+        return made;
     }
 
     static void same(String what, Object got, Object due) {
         made++;
         if (!Objects.equals(got, due)) {
             wrong++;
-            System.out.println(what + " answered " + got + ", due is " + due);
+            System.out.println(about + what + " answered " + got + ", due is " + due);
         }
     }
 
     /** The call throws just that exception, and nothing that can be asked is another behind it. */
-    static void refused(BayerGate camera, String what, Class<?> due, Act act) {
-        String before = stateOf(camera);
-        same(what, outcome(act), due);
-        same(what + " (what it left)", stateOf(camera), before);
+    static void refused(Camera camera, String what, Class<?> due, Camera.Deed deed) {
+        Camera told = camera.copy();
+        same(what, outcome(() -> deed.done(told)), due);
+        same(what + " (what it left)", stateBehind(camera, deed), stateBehind(camera, c -> null));
     }
 
-    static void keeps(BayerGate camera, String what, Act act) {
-        String before = stateOf(camera);
-        act.run();
-        same(what + " (what it left)", stateOf(camera), before);
+    /** The call answers, and nothing that can be asked is another behind it. */
+    static void keeps(Camera camera, String what, Camera.Deed deed) {
+        Camera told = camera.copy();
+        answered(what, outcome(() -> deed.done(told)));
+        same(what + " (what it left)", stateBehind(camera, deed), stateBehind(camera, c -> null));
+    }
+
+    /** The least and the greatest number are taken; those beyond on either side are refused. */
+    static void range(Camera camera, String what, int least, int most, Class<?> due, Told told) {
+        for (int number : new int[] {least, most}) {
+            Camera copy = camera.copy();
+            answered(what + " " + number, outcome(() -> told.told(copy, number)));
+        }
+        for (int number : new int[] {least - 1, most + 1, Integer.MIN_VALUE, Integer.MAX_VALUE}) {
+            refused(camera, what + " " + number, due, c -> told.told(c, number));
+        }
+    }
+
+    private static void answered(String what, Object outcome) {
+        same(what + " gives " + outcome + ", and that is a number", outcome instanceof Number, true);
     }
 
     static Object outcome(Act act) {
@@ -41,31 +71,55 @@ final class Checks {
         }
     }
 
-    static String stateOf(BayerGate camera) {
+    /** All that can be asked behind the deed; two copies, as one has not calls enough for it. */
+    static String stateBehind(Camera camera, Camera.Deed deed) {
+        Camera one = camera.copy();
+        outcome(() -> deed.done(one));
+        Camera other = camera.copy();
+        outcome(() -> deed.done(other));
+        return placesOf(one) + framesOf(other) + lightOf(other);
+    }
+
+    private static String placesOf(Camera camera) {
         StringBuilder text = new StringBuilder();
         text.append(camera.digest());
-        for (int y = 0; y < 8; y++) {
-            for (int x = 0; x < 8; x++) {
-                for (int what = 0; what <= 5; what++) {
-                    text.append(' ').append(camera.ofPlace(x, y, what));
-                }
+        for (int place = 0; place < 64; place++) {
+            for (int what : new int[] {0, 1, 2, 4, 5}) {
+                text.append(' ').append(camera.ofPlace(place % 8, place / 8, what));
             }
         }
-        for (int frame = 0; frame < camera.many(0); frame++) {
-            for (int edit = 0; edit < camera.ofFrame(frame, 2); edit++) {
+        return text.toString();
+    }
+
+    private static String framesOf(Camera camera) {
+        StringBuilder text = new StringBuilder();
+        int frames = camera.many(0);
+        for (int frame = 0; frame < frames; frame++) {
+            int edits = camera.ofFrame(frame, 2);
+            for (int edit = 0; edit < edits; edit++) {
                 text.append(" e").append(camera.ofEdit(frame, edit, 0));
                 text.append(':').append(camera.ofEdit(frame, edit, 1));
             }
-            for (int other = 0; other < camera.many(0); other++) {
+            for (int other = 0; other < frame; other++) {
                 text.append(" a").append(camera.apart(frame, other));
             }
         }
-        for (int time = 1; time <= 64; time++) {
-            text.append(" c").append(camera.wouldClip(time, 1)).append(',').append(camera.wouldClip(time, 8));
+        return text.toString();
+    }
+
+    /** The lamp can't be asked; so each colour is painted alone, and its clipping looked at. */
+    private static String lightOf(Camera camera) {
+        StringBuilder text = new StringBuilder();
+        for (int place = 0; place < 16; place++) {
+            camera.spoil(place % 8, place / 8, 0);
         }
-        for (int target = 0; target <= 255; target += 15) {
-            text.append(" b").append(camera.bestTake(target));
+        for (int colour : new int[] {255, 255 * 256, 255 * 65536}) {
+            camera.paint(0, 0, 7, 7, colour);
+            for (int time = 1; time <= 64; time += time < 24 ? 1 : 8) {
+                text.append(" c").append(camera.wouldClip(time, 1));
+            }
         }
+        text.append(' ').append(outcome(() -> camera.take(5, 3))).append(' ').append(camera.digest());
         return text.toString();
     }
 

@@ -17,7 +17,7 @@ public final class FramesTest {
     }
 
     private static void takeDark() {
-        BayerGate camera = new BayerGate();
+        Camera camera = new Camera();
         Checks.same("take first", camera.take(1, 1), 0);
         // Draws of 5, 15, 35, 14, 33, 10, 25 and 55, modulo 8, above 12.
         int[] row = {17, 19, 15, 18, 13, 14, 13, 19};
@@ -33,7 +33,7 @@ public final class FramesTest {
     }
 
     private static void takeLight() {
-        BayerGate camera = new BayerGate();
+        Camera camera = new Camera();
         camera.paint(0, 0, 0, 0, 10);
         camera.paint(1, 0, 1, 0, 256 * 13);
         camera.paint(2, 0, 2, 0, 255);
@@ -53,7 +53,7 @@ public final class FramesTest {
     }
 
     private static void takeSpoilt() {
-        BayerGate camera = new BayerGate();
+        Camera camera = new Camera();
         camera.paint(0, 0, 7, 7, Cameras.GREY_100);
         camera.spoil(0, 0, 1);
         camera.spoil(1, 0, 2);
@@ -66,20 +66,20 @@ public final class FramesTest {
     }
 
     private static void takeRefused() {
-        BayerGate camera = new BayerGate();
+        Camera camera = new Camera();
         int[][] wrongs = {{0, 1}, {65, 1}, {1, 0}, {1, 9}, {-1, 1}, {1, -1}, {Integer.MIN_VALUE, 1},
             {Integer.MAX_VALUE, 1}, {1, Integer.MIN_VALUE}, {1, Integer.MAX_VALUE}};
-        BayerGate full = Cameras.full();
+        Camera full = Cameras.full();
         for (int[] w : wrongs) {
-            Checks.refused(camera, "take " + w[0] + " " + w[1], Cameras.ARGUMENT, () -> camera.take(w[0], w[1]));
-            Checks.refused(full, "take, full, " + w[0] + " " + w[1], Cameras.ARGUMENT, () -> full.take(w[0], w[1]));
+            Checks.refused(camera, "take " + w[0] + " " + w[1], Cameras.ARGUMENT, c -> c.take(w[0], w[1]));
+            Checks.refused(full, "take, full, " + w[0] + " " + w[1], Cameras.ARGUMENT, c -> c.take(w[0], w[1]));
         }
-        Checks.refused(full, "take the seventh", Cameras.STATE, () -> full.take(1, 1));
+        Checks.refused(full, "take the seventh", Cameras.STATE, c -> c.take(1, 1));
         Checks.same("the sixth", full.many(0), 6);
     }
 
     private static void mergeTwo() {
-        BayerGate camera = new BayerGate();
+        Camera camera = new Camera();
         camera.take(3, 2);
         camera.take(5, 4);
         camera.edit(0, 4, 0);
@@ -108,7 +108,7 @@ public final class FramesTest {
     }
 
     private static void mergeMany() {
-        BayerGate camera = new BayerGate();
+        Camera camera = new Camera();
         Cameras.takeHot(camera);
         Cameras.takeHot(camera, 0, 0, 7, 7);
         Cameras.takeHot(camera, 0, 0, 3, 4);
@@ -127,27 +127,27 @@ public final class FramesTest {
     }
 
     private static void mergeRefused() {
-        BayerGate camera = new BayerGate();
+        Camera camera = new Camera();
         for (int set : new int[] {0, 1, 3, -1}) {
-            Checks.refused(camera, "merge of none, " + set, Cameras.ARGUMENT, () -> camera.merge(set, 0));
+            Checks.refused(camera, "merge of none, " + set, Cameras.ARGUMENT, c -> c.merge(set, 0));
         }
         camera.take(1, 1);
         camera.take(1, 1);
         for (int set : new int[] {0, 1, 2, 4, 5, 6, 7, 64, 67, -1, -2, Integer.MIN_VALUE + 3, Integer.MIN_VALUE, Integer.MAX_VALUE}) {
-            Checks.refused(camera, "merge " + set, Cameras.ARGUMENT, () -> camera.merge(set, 255));
+            Checks.refused(camera, "merge " + set, Cameras.ARGUMENT, c -> c.merge(set, 255));
         }
-        BayerGate full = Cameras.full();
+        Camera full = Cameras.full();
         for (int limit : new int[] {-1, 256, Integer.MIN_VALUE, Integer.MAX_VALUE}) {
-            Checks.refused(camera, "merge limit " + limit, Cameras.ARGUMENT, () -> camera.merge(3, limit));
-            Checks.refused(full, "merge, full, limit " + limit, Cameras.ARGUMENT, () -> full.merge(3, limit));
+            Checks.refused(camera, "merge limit " + limit, Cameras.ARGUMENT, c -> c.merge(3, limit));
+            Checks.refused(full, "merge, full, limit " + limit, Cameras.ARGUMENT, c -> c.merge(3, limit));
         }
-        Checks.refused(full, "merge, full, 1", Cameras.ARGUMENT, () -> full.merge(1, 0));
-        Checks.refused(full, "merge, full, 64", Cameras.ARGUMENT, () -> full.merge(67, 0));
-        Checks.refused(full, "merge, full", Cameras.STATE, () -> full.merge(63, 0));
+        Checks.refused(full, "merge, full, 1", Cameras.ARGUMENT, c -> c.merge(1, 0));
+        Checks.refused(full, "merge, full, 64", Cameras.ARGUMENT, c -> c.merge(67, 0));
+        Checks.refused(full, "merge, full", Cameras.STATE, c -> c.merge(63, 0));
     }
 
     private static void edit() {
-        BayerGate camera = new BayerGate();
+        Camera camera = new Camera();
         camera.take(1, 1);
         camera.take(1, 1);
         int[][] told = {{0, 0}, {0, 64}, {1, 1}, {1, 16}, {2, 1}, {2, 16}, {3, 0}, {3, 2}, {4, 0}, {5, 0}};
@@ -162,37 +162,37 @@ public final class FramesTest {
     }
 
     private static void editRefused() {
-        BayerGate camera = new BayerGate();
-        Checks.refused(camera, "edit of none", Cameras.INDEX, () -> camera.edit(0, 6, 0));
+        Camera camera = new Camera();
+        Checks.refused(camera, "edit of none", Cameras.INDEX, c -> c.edit(0, 6, 0));
         camera.take(1, 1);
         for (int frame : new int[] {-1, 1, 6, Integer.MIN_VALUE, Integer.MAX_VALUE}) {
-            Checks.refused(camera, "edit frame " + frame, Cameras.INDEX, () -> camera.edit(frame, 6, -1));
+            Checks.refused(camera, "edit frame " + frame, Cameras.INDEX, c -> c.edit(frame, 6, -1));
         }
         editNumbersRefused(camera);
         for (int k = 0; k < 6; k++) {
             camera.edit(0, 0, k);
         }
         editNumbersRefused(camera);
-        Checks.refused(camera, "edit, the seventh", Cameras.STATE, () -> camera.edit(0, 0, 1));
+        Checks.refused(camera, "edit, the seventh", Cameras.STATE, c -> c.edit(0, 0, 1));
         camera.undo(0);
         Checks.same("edit behind undo", camera.edit(0, 0, 1), 6);
     }
 
-    private static void editNumbersRefused(BayerGate camera) {
+    private static void editNumbersRefused(Camera camera) {
         int[][] wrongs = {{-1, 0}, {6, 0}, {Integer.MIN_VALUE, 0}, {Integer.MAX_VALUE, 0}, {0, -1}, {0, 65}, {1, 0},
             {1, 17}, {2, 0}, {2, 17}, {3, -1}, {3, 3}, {4, -1}, {4, 1}, {5, -1}, {5, 1}, {0, Integer.MIN_VALUE},
             {3, Integer.MAX_VALUE}};
         for (int[] w : wrongs) {
-            Checks.refused(camera, "edit " + w[0] + " " + w[1], Cameras.ARGUMENT, () -> camera.edit(0, w[0], w[1]));
+            Checks.refused(camera, "edit " + w[0] + " " + w[1], Cameras.ARGUMENT, c -> c.edit(0, w[0], w[1]));
         }
     }
 
     private static void undo() {
-        BayerGate camera = new BayerGate();
-        Checks.refused(camera, "undo of none", Cameras.INDEX, () -> camera.undo(0));
+        Camera camera = new Camera();
+        Checks.refused(camera, "undo of none", Cameras.INDEX, c -> c.undo(0));
         camera.take(1, 1);
         camera.take(1, 1);
-        Checks.keeps(camera, "undo without edits", () -> camera.undo(0));
+        Checks.keeps(camera, "undo without edits", c -> c.undo(0));
         Checks.same("undo none", camera.undo(0), -1);
         camera.edit(0, 1, 7);
         camera.edit(0, 3, 2);
@@ -202,14 +202,14 @@ public final class FramesTest {
         Checks.same("undo none left", camera.undo(0), -1);
         Checks.same("the other frame's stays", camera.many(4), 1);
         for (int frame : new int[] {-1, 2, 6, Integer.MIN_VALUE, Integer.MAX_VALUE}) {
-            Checks.refused(camera, "undo frame " + frame, Cameras.INDEX, () -> camera.undo(frame));
+            Checks.refused(camera, "undo frame " + frame, Cameras.INDEX, c -> c.undo(frame));
         }
         Checks.same("undo, told behind an undo", camera.edit(0, 4, 0), 1);
         Checks.same("the edit that stands", camera.ofEdit(0, 0, 0), 4);
     }
 
     private static void save() {
-        BayerGate camera = Cameras.withHot(2, 2);
+        Camera camera = Cameras.withHot(2, 2);
         Cameras.takeHot(camera, 3, 3);
         Checks.same("save first", camera.save(0), 0);
         int bare = camera.word(0);
@@ -230,16 +230,16 @@ public final class FramesTest {
     }
 
     private static void saveRefused() {
-        BayerGate camera = new BayerGate();
-        Checks.refused(camera, "save of none", Cameras.INDEX, () -> camera.save(0));
+        Camera camera = new Camera();
+        Checks.refused(camera, "save of none", Cameras.INDEX, c -> c.save(0));
         camera.take(1, 1);
         for (int k = 0; k < 6; k++) {
             for (int frame : new int[] {-1, 1, Integer.MIN_VALUE, Integer.MAX_VALUE}) {
-                Checks.refused(camera, "save frame " + frame, Cameras.INDEX, () -> camera.save(frame));
+                Checks.refused(camera, "save frame " + frame, Cameras.INDEX, c -> c.save(frame));
             }
             Checks.same("save " + k, camera.save(0), k);
         }
-        Checks.refused(camera, "save, full, of none", Cameras.INDEX, () -> camera.save(1));
-        Checks.refused(camera, "save the seventh", Cameras.STATE, () -> camera.save(0));
+        Checks.refused(camera, "save, full, of none", Cameras.INDEX, c -> c.save(1));
+        Checks.refused(camera, "save the seventh", Cameras.STATE, c -> c.save(0));
     }
 }

@@ -104,7 +104,7 @@ public final class ModelTest {
 
     private static void rarely(String at, BayerGate a, PlainCamera b, Random r, int time, int gain) {
         // The scene changes much between two frames of a run, and a merge finds room, too.
-        if (r.nextInt(3) == 0 || a.many(0) < 2) {
+        if (r.nextInt(3) == 0 || b.many(0) < 2) {
             same(at + "take", () -> a.take(time, gain), () -> b.take(time, gain));
         }
     }

@@ -15,26 +15,26 @@ public final class PicturesTest {
     }
 
     private static void raw() {
-        BayerGate camera = Cameras.withHot(6, 1);
+        Camera camera = Cameras.withHot(6, 1);
         Checks.same("raw", camera.raw(0, 6, 1), 255);
         Checks.same("raw, turned", camera.raw(0, 1, 6), 0);
         camera.edit(0, 3, 2);
         camera.map(6, 1, true);
         camera.edit(0, 5, 0);
         Checks.same("raw behind edits", camera.raw(0, 6, 1), 255);
-        BayerGate none = new BayerGate();
-        Checks.refused(none, "raw of none", Cameras.INDEX, () -> none.raw(0, 0, 0));
+        Camera none = new Camera();
+        Checks.refused(none, "raw of none", Cameras.INDEX, c -> c.raw(0, 0, 0));
         for (int wrong : new int[] {-1, 8, Integer.MIN_VALUE, Integer.MAX_VALUE}) {
-            Checks.refused(camera, "raw frame " + wrong, Cameras.INDEX, () -> camera.raw(wrong, 0, 0));
-            Checks.refused(camera, "raw x " + wrong, Cameras.INDEX, () -> camera.raw(0, wrong, 0));
-            Checks.refused(camera, "raw y " + wrong, Cameras.INDEX, () -> camera.raw(0, 0, wrong));
+            Checks.refused(camera, "raw frame " + wrong, Cameras.INDEX, c -> c.raw(wrong, 0, 0));
+            Checks.refused(camera, "raw x " + wrong, Cameras.INDEX, c -> c.raw(0, wrong, 0));
+            Checks.refused(camera, "raw y " + wrong, Cameras.INDEX, c -> c.raw(0, 0, wrong));
         }
-        Checks.refused(camera, "raw frame 1", Cameras.INDEX, () -> camera.raw(1, 0, 0));
-        Checks.keeps(camera, "raw", () -> camera.raw(0, 1, 1));
+        Checks.refused(camera, "raw frame 1", Cameras.INDEX, c -> c.raw(1, 0, 0));
+        Checks.keeps(camera, "raw", c -> c.raw(0, 1, 1));
     }
 
     private static void whole() {
-        BayerGate camera = Cameras.withHot(2, 2);
+        Camera camera = Cameras.withHot(2, 2);
         Checks.same("its own", camera.picture(0, 2, 2, 0), 255.0);
         Checks.same("in its row", camera.picture(0, 3, 2, 0), 127.5);
         Checks.same("in its column", camera.picture(0, 2, 1, 0), 127.5);
@@ -43,11 +43,11 @@ public final class PicturesTest {
         Checks.same("another red place has its own", camera.picture(0, 4, 2, 0), 0.0);
         Checks.same("its green", camera.picture(0, 2, 2, 1), 0.0);
         Checks.same("its blue", camera.picture(0, 2, 2, 2), 0.0);
-        BayerGate blue = Cameras.withHot(3, 3);
+        Camera blue = Cameras.withHot(3, 3);
         Checks.same("blue, its own", blue.picture(0, 3, 3, 2), 255.0);
         Checks.same("blue across", blue.picture(0, 4, 4, 2), 63.75);
         Checks.same("blue in its row", blue.picture(0, 2, 3, 2), 127.5);
-        BayerGate green = Cameras.withHot(3, 2);
+        Camera green = Cameras.withHot(3, 2);
         Checks.same("green, its own", green.picture(0, 3, 2, 1), 255.0);
         Checks.same("green beside", green.picture(0, 2, 2, 1), 63.75);
         Checks.same("green below", green.picture(0, 3, 3, 1), 63.75);
@@ -55,12 +55,12 @@ public final class PicturesTest {
     }
 
     private static void wholeAtEdges() {
-        BayerGate camera = Cameras.withHot(1, 0, 7, 7);
+        Camera camera = Cameras.withHot(1, 0, 7, 7);
         Checks.same("green in a corner", camera.picture(0, 0, 0, 1), 127.5);
         Checks.same("green at an edge, of three", camera.picture(0, 2, 0, 1), 85.0);
         Checks.same("blue at an edge, of two", camera.picture(0, 7, 6, 2), 127.5);
         Checks.same("red in a corner, of one", camera.picture(0, 7, 7, 0), 0.0);
-        BayerGate red = Cameras.withHot(6, 6, 0, 0);
+        Camera red = Cameras.withHot(6, 6, 0, 0);
         Checks.same("red in a corner, of one", red.picture(0, 7, 7, 0), 255.0);
         Checks.same("red at an edge, of one", red.picture(0, 7, 6, 0), 255.0);
         Checks.same("red at an edge, of two", red.picture(0, 7, 5, 0), 127.5);
@@ -71,7 +71,7 @@ public final class PicturesTest {
     }
 
     private static double red22(int... edits) {
-        BayerGate camera = Cameras.withHot(2, 2);
+        Camera camera = Cameras.withHot(2, 2);
         for (int k = 0; k < edits.length; k += 2) {
             camera.edit(0, edits[k], edits[k + 1]);
         }
@@ -95,7 +95,7 @@ public final class PicturesTest {
         Checks.same("tone 2 of warm", red22(1, 1, 3, 2), 223.125);
         Checks.same("mend without a map", red22(5, 0), 127.5);
         Checks.same("in their order", red22(0, 27, 3, 0, 0, 50), 0.25);
-        BayerGate camera = Cameras.withHot(3, 3, 3, 2);
+        Camera camera = Cameras.withHot(3, 3, 3, 2);
         camera.edit(0, 2, 2);
         Checks.same("cool 2", camera.picture(0, 3, 3, 2), 127.5);
         Checks.same("cool leaves green", camera.picture(0, 3, 2, 1), 255.0);
@@ -121,7 +121,7 @@ public final class PicturesTest {
     }
 
     private static void flip() {
-        BayerGate camera = Cameras.withHot(2, 2);
+        Camera camera = Cameras.withHot(2, 2);
         camera.edit(0, 4, 0);
         Checks.same("flipped", camera.picture(0, 5, 2, 0), 255.0);
         Checks.same("flipped, beside", camera.picture(0, 4, 2, 0), 127.5);
@@ -131,10 +131,10 @@ public final class PicturesTest {
         Checks.same("raw stays", camera.raw(0, 2, 2), 255);
         camera.edit(0, 4, 0);
         Checks.same("flipped twice", camera.picture(0, 2, 2, 0), 255.0);
-        BayerGate edge = Cameras.withHot(7, 7);
+        Camera edge = Cameras.withHot(7, 7);
         edge.edit(0, 4, 0);
         Checks.same("flipped from edge to edge", edge.picture(0, 0, 7, 2), 255.0);
-        BayerGate first = Cameras.withHot(0, 0);
+        Camera first = Cameras.withHot(0, 0);
         first.edit(0, 0, 5);
         Checks.same("black in the first place", first.picture(0, 0, 0, 0), 250.0);
         first.edit(0, 4, 0);
@@ -142,7 +142,7 @@ public final class PicturesTest {
     }
 
     private static void mend() {
-        BayerGate camera = Cameras.withHot(4, 2, 1, 2, 2, 3);
+        Camera camera = Cameras.withHot(4, 2, 1, 2, 2, 3);
         camera.map(2, 2, true);
         Checks.same("mapped, without a mend", camera.picture(0, 2, 2, 0), 0.0);
         camera.edit(0, 5, 0);
@@ -174,7 +174,7 @@ public final class PicturesTest {
     }
 
     private static void mendEdges() {
-        BayerGate camera = Cameras.withHot(2, 0, 5, 7);
+        Camera camera = Cameras.withHot(2, 0, 5, 7);
         camera.edit(0, 5, 0);
         camera.map(0, 0, true);
         Checks.same("red corner, of two", camera.picture(0, 0, 0, 0), 127.0);
@@ -184,7 +184,7 @@ public final class PicturesTest {
         Checks.same("one row down is another row", camera.picture(0, 1, 7, 2), 0.0);
         camera.map(0, 2, true);
         Checks.same("red at the edge", camera.picture(0, 0, 2, 0), 0.0);
-        BayerGate green = Cameras.withHot(2, 1, 3, 0, 4, 1, 3, 4);
+        Camera green = Cameras.withHot(2, 1, 3, 0, 4, 1, 3, 4);
         green.edit(0, 5, 0);
         green.map(3, 2, true);
         // Of (1, 2), (5, 2), (3, 0) and (3, 4), not of the greens across.
@@ -192,25 +192,25 @@ public final class PicturesTest {
     }
 
     private static void pictureRefused() {
-        BayerGate camera = Cameras.withHot(1, 1);
-        BayerGate none = new BayerGate();
-        Checks.refused(none, "picture of none", Cameras.INDEX, () -> none.picture(0, 0, 0, 3));
-        Checks.refused(none, "word of none", Cameras.INDEX, () -> none.word(0));
+        Camera camera = Cameras.withHot(1, 1);
+        Camera none = new Camera();
+        Checks.refused(none, "picture of none", Cameras.INDEX, c -> c.picture(0, 0, 0, 3));
+        Checks.refused(none, "word of none", Cameras.INDEX, c -> c.word(0));
         for (int wrong : new int[] {-1, 8, Integer.MIN_VALUE, Integer.MAX_VALUE}) {
             for (int colour : new int[] {0, 3}) {
-                Checks.refused(camera, "picture frame", Cameras.INDEX, () -> camera.picture(wrong, 0, 0, colour));
-                Checks.refused(camera, "picture x", Cameras.INDEX, () -> camera.picture(0, wrong, 0, colour));
-                Checks.refused(camera, "picture y", Cameras.INDEX, () -> camera.picture(0, 0, wrong, colour));
+                Checks.refused(camera, "picture frame", Cameras.INDEX, c -> c.picture(wrong, 0, 0, colour));
+                Checks.refused(camera, "picture x", Cameras.INDEX, c -> c.picture(0, wrong, 0, colour));
+                Checks.refused(camera, "picture y", Cameras.INDEX, c -> c.picture(0, 0, wrong, colour));
             }
-            Checks.refused(camera, "word frame", Cameras.INDEX, () -> camera.word(wrong));
+            Checks.refused(camera, "word frame", Cameras.INDEX, c -> c.word(wrong));
         }
-        Checks.refused(camera, "picture frame 1", Cameras.INDEX, () -> camera.picture(1, 0, 0, 0));
-        Checks.refused(camera, "word frame 1", Cameras.INDEX, () -> camera.word(1));
+        Checks.refused(camera, "picture frame 1", Cameras.INDEX, c -> c.picture(1, 0, 0, 0));
+        Checks.refused(camera, "word frame 1", Cameras.INDEX, c -> c.word(1));
         for (int wrong : new int[] {-1, 3, Integer.MIN_VALUE, Integer.MAX_VALUE}) {
-            Checks.refused(camera, "picture colour", Cameras.ARGUMENT, () -> camera.picture(0, 0, 0, wrong));
+            Checks.refused(camera, "picture colour", Cameras.ARGUMENT, c -> c.picture(0, 0, 0, wrong));
         }
-        Checks.keeps(camera, "picture", () -> camera.picture(0, 1, 1, 2));
-        Checks.keeps(camera, "word", () -> camera.word(0));
+        Checks.keeps(camera, "picture", c -> c.picture(0, 1, 1, 2));
+        Checks.keeps(camera, "word", c -> c.word(0));
     }
 
     private static int wordOf(int[] tones) {
@@ -224,7 +224,7 @@ public final class PicturesTest {
     private static void word() {
         int[] tones = new int[192];
         Checks.same("dark word", Cameras.withHot().word(0), wordOf(tones));
-        BayerGate camera = Cameras.withHot(7, 7);
+        Camera camera = Cameras.withHot(7, 7);
         tones[3 * (8 * 7 + 7) + 2] = 255;
         tones[3 * (8 * 7 + 6) + 2] = 127;
         tones[3 * (8 * 6 + 7) + 2] = 127;

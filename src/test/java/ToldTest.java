@@ -12,7 +12,7 @@ public final class ToldTest {
     }
 
     private static void newObject() {
-        BayerGate camera = new BayerGate();
+        Camera camera = new Camera();
         for (int what = 0; what <= 6; what++) {
             Checks.same("new many " + what, camera.many(what), 0);
         }
@@ -26,11 +26,11 @@ public final class ToldTest {
         Checks.same("new lamp", camera.lamp(1, 1, 1), 4);
         camera.paint(0, 0, 7, 7, Cameras.GREY_100);
         camera.take(1, 1);
-        Checks.same("another object", new BayerGate().digest(), 8189459741508482L);
+        Checks.same("another object", new Camera().digest(), 8189459741508482L);
     }
 
     private static void paint() {
-        BayerGate camera = new BayerGate();
+        Camera camera = new Camera();
         Checks.same("paint all", camera.paint(0, 0, 7, 7, 0xffffff), 64);
         Checks.same("paint one", camera.paint(7, 0, 7, 0, 0), 1);
         Checks.same("paint some", camera.paint(1, 4, 3, 5, 10 + 256 * 20 + 65536 * 30), 6);
@@ -51,23 +51,23 @@ public final class ToldTest {
     }
 
     private static void paintRefused() {
-        BayerGate camera = new BayerGate();
+        Camera camera = new Camera();
         camera.paint(0, 0, 7, 7, Cameras.GREY_100);
         int[][] outside = {{-1, 0, 7, 7}, {8, 0, 7, 7}, {0, -1, 7, 7}, {0, 8, 7, 7}, {0, 0, -1, 7}, {0, 0, 8, 7},
             {0, 0, 7, -1}, {0, 0, 7, 8}, {Integer.MIN_VALUE, 0, 7, 7}, {0, 0, 7, Integer.MAX_VALUE}};
         for (int[] o : outside) {
             for (int colour : new int[] {0, -1, 16777216}) {
-                Checks.refused(camera, "paint outside", Cameras.INDEX, () -> camera.paint(o[0], o[1], o[2], o[3], colour));
+                Checks.refused(camera, "paint outside", Cameras.INDEX, c -> c.paint(o[0], o[1], o[2], o[3], colour));
             }
         }
-        Checks.refused(camera, "paint toX", Cameras.ARGUMENT, () -> camera.paint(3, 0, 2, 7, 0));
-        Checks.refused(camera, "paint toY", Cameras.ARGUMENT, () -> camera.paint(0, 3, 7, 2, 0));
-        Checks.refused(camera, "paint -1", Cameras.ARGUMENT, () -> camera.paint(0, 0, 7, 7, -1));
-        Checks.refused(camera, "paint 16777216", Cameras.ARGUMENT, () -> camera.paint(0, 0, 7, 7, 16777216));
+        Checks.refused(camera, "paint toX", Cameras.ARGUMENT, c -> c.paint(3, 0, 2, 7, 0));
+        Checks.refused(camera, "paint toY", Cameras.ARGUMENT, c -> c.paint(0, 3, 7, 2, 0));
+        Checks.refused(camera, "paint -1", Cameras.ARGUMENT, c -> c.paint(0, 0, 7, 7, -1));
+        Checks.refused(camera, "paint 16777216", Cameras.ARGUMENT, c -> c.paint(0, 0, 7, 7, 16777216));
     }
 
     private static void lamp() {
-        BayerGate camera = new BayerGate();
+        Camera camera = new Camera();
         camera.paint(0, 0, 7, 7, Cameras.GREY_100);
         Checks.same("lamp first", camera.lamp(2, 5, 8), 4);
         Checks.same("lamp second", camera.lamp(2, 4, 8), 5);
@@ -83,18 +83,18 @@ public final class ToldTest {
     }
 
     private static void lampRefused() {
-        BayerGate camera = new BayerGate();
+        Camera camera = new Camera();
         camera.paint(0, 0, 7, 7, Cameras.GREY_100);
         for (int wrong : new int[] {0, 17, -1, Integer.MIN_VALUE, Integer.MAX_VALUE}) {
-            Checks.refused(camera, "lamp red " + wrong, Cameras.ARGUMENT, () -> camera.lamp(wrong, 8, 8));
-            Checks.refused(camera, "lamp green " + wrong, Cameras.ARGUMENT, () -> camera.lamp(8, wrong, 8));
-            Checks.refused(camera, "lamp blue " + wrong, Cameras.ARGUMENT, () -> camera.lamp(8, 8, wrong));
+            Checks.refused(camera, "lamp red " + wrong, Cameras.ARGUMENT, c -> c.lamp(wrong, 8, 8));
+            Checks.refused(camera, "lamp green " + wrong, Cameras.ARGUMENT, c -> c.lamp(8, wrong, 8));
+            Checks.refused(camera, "lamp blue " + wrong, Cameras.ARGUMENT, c -> c.lamp(8, 8, wrong));
         }
         Checks.same("lamp behind refusals", camera.lamp(4, 4, 4), 4);
     }
 
     private static void spoil() {
-        BayerGate camera = new BayerGate();
+        Camera camera = new Camera();
         Checks.same("spoil dead", camera.spoil(2, 3, 1), 0);
         Checks.same("spoil hot", camera.spoil(2, 3, 2), 1);
         Checks.same("spoil as it is", camera.spoil(2, 3, 2), 2);
@@ -106,16 +106,16 @@ public final class ToldTest {
         Checks.same("raw of a frame stays", camera.raw(0, 2, 3), 255);
         Checks.same("many spoilt, less one", camera.many(5), 1);
         for (int wrong : new int[] {-1, 8, Integer.MIN_VALUE, Integer.MAX_VALUE}) {
-            Checks.refused(camera, "spoil x " + wrong, Cameras.INDEX, () -> camera.spoil(wrong, 0, 1));
-            Checks.refused(camera, "spoil y " + wrong, Cameras.INDEX, () -> camera.spoil(0, wrong, 3));
+            Checks.refused(camera, "spoil x " + wrong, Cameras.INDEX, c -> c.spoil(wrong, 0, 1));
+            Checks.refused(camera, "spoil y " + wrong, Cameras.INDEX, c -> c.spoil(0, wrong, 3));
         }
         for (int wrong : new int[] {-1, 3, Integer.MIN_VALUE, Integer.MAX_VALUE}) {
-            Checks.refused(camera, "spoil how " + wrong, Cameras.ARGUMENT, () -> camera.spoil(0, 0, wrong));
+            Checks.refused(camera, "spoil how " + wrong, Cameras.ARGUMENT, c -> c.spoil(0, 0, wrong));
         }
     }
 
     private static void map() {
-        BayerGate camera = new BayerGate();
+        Camera camera = new Camera();
         Checks.same("map one", camera.map(0, 7, true), 1);
         Checks.same("map it again", camera.map(0, 7, true), 1);
         Checks.same("map other", camera.map(7, 0, true), 2);
@@ -126,8 +126,8 @@ public final class ToldTest {
         Checks.same("unmap it again", camera.map(0, 7, false), 1);
         Checks.same("a mapped place is as it was", camera.ofPlace(7, 0, 4), 0);
         for (int wrong : new int[] {-1, 8, Integer.MIN_VALUE, Integer.MAX_VALUE}) {
-            Checks.refused(camera, "map x " + wrong, Cameras.INDEX, () -> camera.map(wrong, 0, true));
-            Checks.refused(camera, "map y " + wrong, Cameras.INDEX, () -> camera.map(0, wrong, true));
+            Checks.refused(camera, "map x " + wrong, Cameras.INDEX, c -> c.map(wrong, 0, true));
+            Checks.refused(camera, "map y " + wrong, Cameras.INDEX, c -> c.map(0, wrong, true));
         }
         for (int place = 0; place < 64; place++) {
             camera.map(place % 8, place / 8, true);

@@ -15,7 +15,7 @@ public final class WouldBeTest {
     }
 
     private static void wouldClip() {
-        BayerGate camera = new BayerGate();
+        Camera camera = new Camera();
         camera.spoil(0, 0, 2);
         camera.spoil(1, 0, 1);
         Checks.same("a hot one", camera.wouldClip(1, 1), 1);
@@ -29,29 +29,29 @@ public final class WouldBeTest {
         }
         Checks.same("by the draws", camera.wouldClip(16, 1), due);
         Checks.same("by the same draws", camera.wouldClip(16, 1), due);
-        Checks.keeps(camera, "wouldClip", () -> camera.wouldClip(16, 1));
+        Checks.keeps(camera, "wouldClip", c -> c.wouldClip(16, 1));
         for (int k = 0; k < 6; k++) {
             int would = camera.wouldClip(16, 1);
             Checks.same("then taken", camera.ofFrame(camera.take(16, 1), 3), would);
         }
         camera.paint(0, 0, 7, 7, 0xffffff);
         Checks.same("without room", camera.wouldClip(64, 8), 63);
-        Checks.keeps(camera, "wouldClip without room", () -> camera.wouldClip(64, 8));
+        Checks.keeps(camera, "wouldClip without room", c -> c.wouldClip(64, 8));
     }
 
     private static void wouldClipRefused() {
-        BayerGate camera = Cameras.full();
+        Camera camera = Cameras.full();
         int[][] wrongs = {{0, 1}, {65, 1}, {1, 0}, {1, 9}, {-1, 1}, {1, -1}, {Integer.MIN_VALUE, 1},
             {Integer.MAX_VALUE, 1}, {1, Integer.MIN_VALUE}, {1, Integer.MAX_VALUE}};
         for (int[] w : wrongs) {
-            Checks.refused(camera, "wouldClip", Cameras.ARGUMENT, () -> camera.wouldClip(w[0], w[1]));
+            Checks.refused(camera, "wouldClip", Cameras.ARGUMENT, c -> c.wouldClip(w[0], w[1]));
         }
     }
 
     private static void bestTake() {
-        BayerGate camera = new BayerGate();
+        Camera camera = new Camera();
         camera.paint(0, 0, 7, 7, WHITE_32);
-        BayerGate dark = new BayerGate();
+        Camera dark = new Camera();
         dark.take(1, 1);
         // A frame of time t and gain g lies 2 * t * g above a dark one, as far as nothing is clipped.
         int base = (int) (dark.meter(0) + 0.5);
@@ -69,16 +69,16 @@ public final class WouldBeTest {
         // 15.5625 in the dark, and a sixteenth more for each of time times gain.
         Checks.same("best by less than 1", camera.bestTake(16), 16 + 7);
         camera.take(1, 1);
-        BayerGate full = Cameras.full();
+        Camera full = Cameras.full();
         full.paint(0, 0, 7, 7, 0xffffff);
         Checks.same("best without room", full.bestTake(0), 16 + 1);
         Checks.same("best for the brightest", full.bestTake(255), 16 * 16 + 1);
-        Checks.keeps(full, "bestTake", () -> full.bestTake(100));
-        Checks.keeps(camera, "bestTake", () -> camera.bestTake(100));
+        Checks.keeps(full, "bestTake", c -> c.bestTake(100));
+        Checks.keeps(camera, "bestTake", c -> c.bestTake(100));
     }
 
     private static void bestTakeTies() {
-        BayerGate camera = new BayerGate();
+        Camera camera = new Camera();
         for (int target : new int[] {0, 15, 16, 255}) {
             Checks.same("dark, all the same", camera.bestTake(target), 16 + 1);
         }
@@ -86,7 +86,7 @@ public final class WouldBeTest {
         Checks.same("hot, all the same", camera.bestTake(0), 16 + 1);
         Cameras.spoilAll(camera, 0);
         camera.paint(0, 0, 7, 7, WHITE_32);
-        BayerGate dark = new BayerGate();
+        Camera dark = new Camera();
         dark.take(1, 1);
         int base = (int) (dark.meter(0) + 0.5);
         // 16 by a time of 8, and by shorter ones with a higher gain.
@@ -98,14 +98,14 @@ public final class WouldBeTest {
     }
 
     private static void bestTakeRefused() {
-        BayerGate camera = new BayerGate();
+        Camera camera = new Camera();
         for (int wrong : new int[] {-1, 256, Integer.MIN_VALUE, Integer.MAX_VALUE}) {
-            Checks.refused(camera, "bestTake " + wrong, Cameras.ARGUMENT, () -> camera.bestTake(wrong));
+            Checks.refused(camera, "bestTake " + wrong, Cameras.ARGUMENT, c -> c.bestTake(wrong));
         }
     }
 
     private static void bestWhite() {
-        BayerGate camera = new BayerGate();
+        Camera camera = new Camera();
         Cameras.takeColours(camera, true, true, true);
         Checks.same("all the same", camera.bestWhite(0, 1), 4);
         Checks.same("all the same, blue", camera.bestWhite(0, 2), 4);
@@ -119,16 +119,16 @@ public final class WouldBeTest {
             camera.edit(0, 4, 0);
         }
         Checks.same("without room", camera.bestWhite(0, 1), 2);
-        Checks.keeps(camera, "bestWhite", () -> camera.bestWhite(0, 1));
+        Checks.keeps(camera, "bestWhite", c -> c.bestWhite(0, 1));
         Checks.same("dark, all the same", Cameras.withHot().bestWhite(0, 1), 1);
-        BayerGate reds = new BayerGate();
+        Camera reds = new Camera();
         Cameras.takeColours(reds, true, false, false);
         Checks.same("red alone", reds.bestWhite(0, 1), 1);
         Checks.same("no blue: the smallest", reds.bestWhite(0, 2), 1);
         reds.edit(0, 3, 2);
         // No red now, and green of 255.
         Checks.same("no red: the smallest", reds.bestWhite(0, 1), 1);
-        BayerGate greens = new BayerGate();
+        Camera greens = new Camera();
         Cameras.takeColours(greens, true, true, true);
         greens.edit(0, 1, 1);
         // 63.75 of red, cut behind the edit: 16 gives 255.
@@ -141,14 +141,14 @@ public final class WouldBeTest {
     }
 
     private static void bestWhiteRefused() {
-        BayerGate camera = new BayerGate();
-        Checks.refused(camera, "bestWhite of none", Cameras.INDEX, () -> camera.bestWhite(0, 0));
+        Camera camera = new Camera();
+        Checks.refused(camera, "bestWhite of none", Cameras.INDEX, c -> c.bestWhite(0, 0));
         camera.take(1, 1);
         for (int wrong : new int[] {-1, 1, 6, Integer.MIN_VALUE, Integer.MAX_VALUE}) {
-            Checks.refused(camera, "bestWhite frame", Cameras.INDEX, () -> camera.bestWhite(wrong, 3));
+            Checks.refused(camera, "bestWhite frame", Cameras.INDEX, c -> c.bestWhite(wrong, 3));
         }
         for (int wrong : new int[] {-1, 0, 3, Integer.MIN_VALUE, Integer.MAX_VALUE}) {
-            Checks.refused(camera, "bestWhite kind", Cameras.ARGUMENT, () -> camera.bestWhite(0, wrong));
+            Checks.refused(camera, "bestWhite kind", Cameras.ARGUMENT, c -> c.bestWhite(0, wrong));
         }
     }
 
@@ -157,8 +157,8 @@ public final class WouldBeTest {
         for (int k = 0; k < 8; k++) {
             d *= 31L;
         }
-        Checks.same("digest of a new one", new BayerGate().digest(), d);
-        BayerGate camera = new BayerGate();
+        Checks.same("digest of a new one", new Camera().digest(), d);
+        Camera camera = new Camera();
         camera.paint(0, 0, 7, 7, 239 * (1 + 256 + 65536));
         camera.paint(2, 3, 4, 5, 0x123456);
         camera.spoil(3, 3, 2);
@@ -174,10 +174,10 @@ public final class WouldBeTest {
         Checks.same("clips otherwise by a longer time", camera.wouldClip(16, 1) < camera.wouldClip(17, 1), true);
         Checks.same("clips otherwise by a higher gain", camera.wouldClip(16, 1) < camera.wouldClip(16, 2), true);
         Checks.same("digest", camera.digest(), digestOf(camera));
-        Checks.keeps(camera, "digest", camera::digest);
+        Checks.keeps(camera, "digest", Camera::digest);
     }
 
-    private static long digestOf(BayerGate camera) {
+    private static long digestOf(Camera camera) {
         long d = 9602L;
         for (int what = 0; what <= 6; what++) {
             d = d * 31 + camera.many(what);
