@@ -49,4 +49,79 @@ final class Cameras {
         }
         return camera;
     }
+
+    /** The draw behind so many places. */
+    static int drawBehind(int places) {
+        int draw = 0;
+        for (int k = 0; k < places; k++) {
+            draw = (2 * draw + 5) % 61;
+        }
+        return draw;
+    }
+
+    /** A first frame: each place told as x, y, RAW has that, all others 0. The lamp is as at first. */
+    static Camera withRaw(int... raws) {
+        Camera camera = new Camera();
+        spoilAll(camera, 1);
+        takeRaw(camera, raws);
+        return camera;
+    }
+
+    /** One more frame: each place told as x, y, RAW has that, all others are as they were broken. */
+    static int takeRaw(Camera camera, int... raws) {
+        int taken = 64 * camera.many(0);
+        for (int k = 0; k < raws.length; k += 3) {
+            int x = raws[k];
+            int y = raws[k + 1];
+            int raw = raws[k + 2];
+            int colour = raw - 12 - drawBehind(taken + 8 * y + x + 1) % 8;
+            boolean isPainted = raw > 0 && raw < 255;
+            camera.spoil(x, y, isPainted ? 0 : raw == 0 ? 1 : 2);
+            if (isPainted) {
+                camera.paint(x, y, x, y, colour * (1 + 256 + 65536));
+            }
+        }
+        return camera.take(16, 1);
+    }
+
+    /** Something of everything: light, broken and mapped places, frames taken and merged, edits, files. */
+    static Camera rich() {
+        Camera camera = new Camera();
+        camera.paint(0, 0, 7, 7, GREY_100);
+        camera.paint(2, 3, 5, 6, 30 + 256 * 200 + 65536 * 90);
+        camera.lamp(5, 6, 7);
+        camera.spoil(1, 0, 1);
+        camera.spoil(4, 4, 2);
+        camera.map(4, 4, true);
+        camera.map(2, 2, true);
+        camera.take(16, 1);
+        camera.take(7, 3);
+        camera.merge(3, 5);
+        int[][] edits = {{0, 5, 0}, {0, 1, 6}, {1, 4, 0}, {2, 3, 2}};
+        for (int[] e : edits) {
+            camera.edit(e[0], e[1], e[2]);
+        }
+        camera.save(0);
+        camera.save(2);
+        camera.save(0);
+        return camera;
+    }
+
+    /** No room left: six frames, six edits of each, six files. */
+    static Camera crowded() {
+        Camera camera = rich();
+        camera.take(3, 2);
+        camera.take(64, 8);
+        camera.merge(1 + 8 + 16, 40);
+        int[] had = {2, 1, 1, 0, 0, 0};
+        for (int frame = 0; frame < 6; frame++) {
+            for (int k = had[frame]; k < 6; k++) {
+                camera.edit(frame, k % 4, 1 + (frame + k) % 2);
+            }
+        }
+        for (int frame = 3; frame < 6; frame++) {
+            camera.save(frame);
+        }
+        return camera;
+    }
 }

@@ -10,6 +10,10 @@ final class Checks {
         Object told(Camera camera, int number);
     }
 
+    interface ToldPlace {
+        Object told(Camera camera, int x, int y);
+    }
+
     private static int made = 0;
     private static int wrong = 0;
     private static String about = "";
@@ -57,6 +61,26 @@ final class Checks {
         for (int number : new int[] {least - 1, most + 1, Integer.MIN_VALUE, Integer.MAX_VALUE}) {
             refused(camera, what + " " + number, due, c -> told.told(c, number));
         }
+    }
+
+    /** As range, for both numbers of a place. */
+    static void places(Camera camera, String what, ToldPlace told) {
+        range(camera, what + " x", 0, 7, Cameras.INDEX, (c, v) -> told.told(c, v, 0));
+        range(camera, what + " y", 0, 7, Cameras.INDEX, (c, v) -> told.told(c, 0, v));
+        range(camera, what + " x at the other end", 0, 7, Cameras.INDEX, (c, v) -> told.told(c, v, 7));
+        range(camera, what + " y at the other end", 0, 7, Cameras.INDEX, (c, v) -> told.told(c, 7, v));
+    }
+
+    /** As range, for a frame's number: where there is none, one, some, and as many as there can be. */
+    static void frames(String what, Told told) {
+        for (int number : new int[] {0, -1, 5}) {
+            refused(new Camera(), what + " " + number + " of none", Cameras.INDEX, c -> told.told(c, number));
+        }
+        Camera one = new Camera();
+        one.take(1, 1);
+        range(one, what + " of one", 0, 0, Cameras.INDEX, told);
+        range(Cameras.rich(), what + " of three", 0, 2, Cameras.INDEX, told);
+        range(Cameras.full(), what + " of six", 0, 5, Cameras.INDEX, told);
     }
 
     private static void answered(String what, Object outcome) {
