@@ -406,6 +406,12 @@ final class AskedEdges {
         Camera least = Cameras.withRaw(0, 0, 100);
         Cameras.takeRaw(least, 0, 0, 101);
         Checks.same("1", least.apart(0, 1), 1.0);
+        for (int frame = 0; frame < 2; frame++) {
+            least.edit(frame, 3, 0);
+            least.edit(frame, 3, 0);
+        }
+        Checks.same("0.25", least.apart(0, 1), 0.25);
+        Checks.same("0.25, the other way round", least.apart(1, 0), 0.25);
     }
 
     private static void apartWithoutSign() {

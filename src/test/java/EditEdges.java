@@ -323,6 +323,7 @@ final class EditEdges {
         }
         // 510 turned is -255, which is below 0f without being made less.
         Checks.same("of a number below 0", red(1, 16, 3, 2, 0, 0, 3, 2, 0, 5), 250.0);
+        Checks.same("0.5 less 1", red(0, 64, 0, 63, 0, 1, 3, 2, 0, 1), 254.0);
     }
 
     private static void warmOrCool(int kind, int colour) {
@@ -426,6 +427,8 @@ final class EditEdges {
         Checks.same("0 of a dark one", Cameras.withHot().picture(0, 0, 0, 0), 0.0);
         // 127.5 * 2.25 is 286.875; 255 less it.
         Checks.same("-31.875", red(1, 9, 3, 2), 0.0);
+        // 78.5 * 3.25 is 255.125; 255 less it.
+        Checks.same("-0.125", red(0, 49, 1, 13, 3, 2), 0.0);
         Checks.same("-1785, the least by one edit", red(1, 16, 1, 16, 3, 2), 0.0);
     }
 
