@@ -20,7 +20,7 @@ final class AskedEdges {
         document.says(at, "or x or y not 0 to 7", () -> Checks.places(Cameras.rich(), "raw", (c, x, y) -> c.raw(2, x, y)));
         at = "Promise 12: picture";
         document.says(at, "- `colour`: 0 RED, 1 GREEN, 2 BLUE", AskedEdges::pictureColours);
-        document.says(at, "behind all EDITS, made double", AskedEdges::pictureBehindAll);
+        document.says(at, "Returns that of its PICTURE there, behind all EDITS, made double", AskedEdges::pictureBehindAll);
         document.says(at, NO_FRAME, () -> Checks.frames("picture", (c, v) -> c.picture(v, 7, 7, 2)));
         document.says(at, "or x or y not 0 to 7",
             () -> Checks.places(Cameras.rich(), "picture", (c, x, y) -> c.picture(2, x, y, 0)));
@@ -28,14 +28,14 @@ final class AskedEdges {
             () -> Checks.range(Cameras.rich(), "colour", 0, 2, ARGUMENT, (c, v) -> c.picture(2, 7, 0, v)));
         at = "Promise 13: word";
         document.says(at, "it starts with 7", AskedEdges::wordStart);
-        document.says(at, "w * 31 + TONE (which wraps around as a 32-bit integer)", AskedEdges::wordWraps);
+        document.says(at, "and becomes w * 31 + TONE (which wraps around as a 32-bit integer)", AskedEdges::wordWraps);
         document.says(at, "y by y, x by x, for RED, GREEN and BLUE", AskedEdges::wordOrder);
         document.says(at, NO_FRAME, () -> Checks.frames("word", (c, v) -> c.word(v)));
     }
 
     private static void tellFrames(Document document) {
         String at = "Promise 14: ofFrame";
-        document.says(at, "0 its TIME, 1 GAIN, 2 how many EDITS, 3 PLACES that are CLIPPED", AskedEdges::ofFrame);
+        document.says(at, "- `what`: 0 its TIME, 1 GAIN, 2 how many EDITS, 3 PLACES that are CLIPPED", AskedEdges::ofFrame);
         document.says(at, "4 GHOSTS (0 of one that was taken)", AskedEdges::ghostsOfTaken);
         document.says(at, "5 SHARP, 6 WHITE of RED, 7 WHITE of BLUE, 8 FILES of it", AskedEdges::ofFrameOther);
         document.says(at, NO_FRAME, AskedEdges::ofFrameFrames);
@@ -56,21 +56,21 @@ final class AskedEdges {
 
     private static void tellFiles(Document document) {
         String at = "Promise 18: ofFile";
-        document.says(at, "0 its FRAME, 1 VERSION, 2 how many EDITS", AskedEdges::ofFile);
+        document.says(at, "- `what`: 0 its FRAME, 1 VERSION, 2 how many EDITS", AskedEdges::ofFile);
         document.says(at, "3 word() of it as it was saved (with what is MAPPED now)", AskedEdges::ofFileWord);
         document.says(at, "Throws `IndexOutOfBoundsException` if there is no such FILE", AskedEdges::ofFileFiles);
         document.says(at, "Throws `IllegalArgumentException` if what is not 0 to 3",
             () -> Checks.range(Cameras.rich(), "what", 0, 3, ARGUMENT, (c, v) -> c.ofFile(2, v)));
         at = "Promise 19: ofPlace";
-        document.says(at, "0 to 2 RED, GREEN and BLUE of the SCENE, 3 the COLOUR that the SENSOR sees, 4 how the PLACE is",
-            AskedEdges::ofPlace);
+        document.says(at, "- `what`: 0 to 2 RED, GREEN and BLUE of the SCENE, 3 the COLOUR that the SENSOR sees,"
+            + " 4 how the PLACE is", AskedEdges::ofPlace);
         document.says(at, "5 1 if it is MAPPED, otherwise 0", AskedEdges::ofPlaceMapped);
         document.says(at, "Throws `IndexOutOfBoundsException` if x or y is not 0 to 7",
             () -> Checks.places(Cameras.rich(), "ofPlace", (c, x, y) -> c.ofPlace(x, y, 5)));
         document.says(at, "Throws `IllegalArgumentException` if what is not 0 to 5",
             () -> Checks.range(Cameras.rich(), "what", 0, 5, ARGUMENT, (c, v) -> c.ofPlace(7, 7, v)));
         at = "Promise 20: many";
-        document.says(at, "0 FRAMES, 1 FILES, 2 MAPPED PLACES, 3 the DRAW, 4 EDITS of all FRAMES", AskedEdges::many);
+        document.says(at, "- `what`: 0 FRAMES, 1 FILES, 2 MAPPED PLACES, 3 the DRAW, 4 EDITS of all FRAMES", AskedEdges::many);
         document.says(at, "5 PLACES that are not GOOD, 6 of these those that are not MAPPED", AskedEdges::manyNotGood);
         document.says(at, "Throws `IllegalArgumentException` if what is not 0 to 6", AskedEdges::manyWhats);
         at = "Promise 21: apart";

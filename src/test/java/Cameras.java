@@ -84,6 +84,18 @@ final class Cameras {
         return camera.take(16, 1);
     }
 
+    /** Six frames; in the frame k the green place (k + 1, k) alone is 255, all others are 0. */
+    static Camera sixGreens() {
+        Camera camera = new Camera();
+        spoilAll(camera, 1);
+        for (int frame = 0; frame < 6; frame++) {
+            camera.spoil(frame + 1, frame, 2);
+            camera.take(1 + frame, 8 - frame);
+            camera.spoil(frame + 1, frame, 1);
+        }
+        return camera;
+    }
+
     /** Something of everything: light, broken and mapped places, frames taken and merged, edits, files. */
     static Camera rich() {
         Camera camera = new Camera();

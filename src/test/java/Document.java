@@ -7,18 +7,17 @@ import java.util.regex.Matcher;
 import java.util.regex.Pattern;
 
 /**
- * The document, of which each sentence that names a boundary has a test of its own: a test quotes
- * its sentence here, and at the end those are told that no test has quoted.
+ * The document, of which each sentence has a test of its own: a test quotes its sentence here, and
+ * at the end those words are told that no test has quoted.
  */
 final class Document {
     private static final Pattern HEADING = Pattern.compile("(?:##|==) (.*)");
-    private static final Pattern SENTENCE = Pattern.compile("(?:[^.;\\n]|[.;](?![ \\n]|$))+");
-    private static final Pattern BOUNDARY = Pattern.compile("[0-9]|\\b(?:NONE|none|no|not|if|at most|at least|first"
-        + "|most|least|greatest|smallest|nearest|latest|older|later|now|then|before|behind|ahead|same|alone|whole|cut"
-        + "|wraps|room|with it|without|changes?|never|wrong|each|all|any|sum|how many|counted|as they are)\\b");
-    private static final Pattern PLAIN = Pattern.compile("\\s*(?:```.*|The inside of a camera.*|Its calls: .*"
-        + "|and one asks for .*|what later calls answer is free|Ahead of the calls .*|- `\\w+`: [^0-9()]*)");
-    private static final Pattern FACE = Pattern.compile("(?m)^`[^`]*`: (?:- `frame`: a FRAME)?");
+    // What is no promise: the title, what the document is about, and the calls told once more in words.
+    private static final Pattern FREE = Pattern.compile("(?m)^# .*|^The inside of a camera.*"
+        + "|; what later calls answer is free\\.|^Its calls: .*|^```\\w*");
+    // FaceTest looks at the faces of the calls.
+    private static final Pattern FACE = Pattern.compile("(?m)^`[^`]*`: ");
+    private static final Pattern RUN = Pattern.compile("[^\\n\\x00]*[A-Za-z0-9][^\\n\\x00]*");
 
     private final Map<String, String> texts = new LinkedHashMap<>();
     private final Map<String, boolean[]> quoted = new LinkedHashMap<>();
@@ -62,30 +61,33 @@ final class Document {
         }
     }
 
-    /** Each row of what a call throws, and each sentence that names a boundary, has been quoted. */
+    /** Each word of the document, from its first line to its last, has been quoted by a test. */
     void end() {
         for (Map.Entry<String, String> section : texts.entrySet()) {
             String heading = section.getKey();
             if (heading.equals("The public face") || heading.equals("Not promised")) {
                 continue;
             }
-            Matcher matcher = SENTENCE.matcher(FACE.matcher(section.getValue()).replaceAll(m -> " ".repeat(m.group().length())));
+            Matcher matcher = RUN.matcher(unquoted(section.getValue(), quoted.get(heading)));
             while (matcher.find()) {
-                String sentence = matcher.group();
-                if (BOUNDARY.matcher(sentence).find() && !PLAIN.matcher(sentence).matches()) {
-                    Checks.same("a test quotes " + heading + ", \"" + sentence.strip() + "\"",
-                        isQuoted(heading, matcher.start(), matcher.end()), true);
-                }
+                Checks.same("a test quotes " + heading + ", \"" + matcher.group().strip() + "\"", false, true);
             }
         }
     }
 
-    private boolean isQuoted(String heading, int from, int to) {
-        for (int k = from; k < to; k++) {
-            if (quoted.get(heading)[k]) {
-                return true;
+    private static String unquoted(String text, boolean[] isQuoted) {
+        StringBuilder left = new StringBuilder(text);
+        for (int k = 0; k < isQuoted.length; k++) {
+            if (isQuoted[k]) {
+                left.setCharAt(k, '\0');
             }
         }
-        return false;
+        for (Pattern pattern : new Pattern[] {FREE, FACE}) {
+            Matcher matcher = pattern.matcher(text);
+            while (matcher.find()) {
+                left.replace(matcher.start(), matcher.end(), "\0".repeat(matcher.group().length()));
+            }
+        }
+        return left.toString();
     }
 }

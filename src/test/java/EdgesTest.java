@@ -1,7 +1,7 @@
 import java.io.IOException;
 import java.nio.file.Path;
 
-/** Each sentence of the document that names a boundary, with a test of its own. */
+/** Each sentence of the document, with a test of its own. */
 public final class EdgesTest {
     public static void main(String[] args) throws IOException {
         Document document = new Document(Path.of(args[1]));
@@ -13,6 +13,8 @@ public final class EdgesTest {
         FrameEdges.tell(document);
         AskedEdges.tell(document);
         WouldBeEdges.tell(document);
+        ToldRows.tell(document);
+        AskedRows.tell(document);
         document.end();
         Checks.end();
     }

@@ -15,18 +15,22 @@ final class EditEdges {
         document.says(AT, "4 FLIP (0)", () -> numbers(4, 0, 0));
         document.says(AT, "5 MEND (0)", () -> numbers(5, 0, 0));
         document.says(AT, "They are applied to a PICTURE (by what is MAPPED as it is asked)", EditEdges::mappedAsAsked);
+        document.says(AT, "three floats (RED, GREEN, BLUE) in each PLACE.", EditEdges::threeFloats);
+        document.says(AT, "First, on RAW alone", EditEdges::firstOnRaw);
         document.says(AT, "if there is a MEND among the EDITS", EditEdges::mendAmongEdits);
         document.says(AT, "each MAPPED PLACE gets the mean of RAW", EditEdges::mappedAlone);
         document.says(AT, "(the sum divided by how many, whole)", EditEdges::meanIsWhole);
-        document.says(AT, "that see the same COLOUR", EditEdges::twoAway);
+        document.says(AT, "of those that see the same COLOUR", EditEdges::twoAway);
         document.says(AT, "are not MAPPED, and", EditEdges::ofNotMapped);
         document.says(AT, "are 2 away in x (y the same) or in y (x the same)", EditEdges::eachOfFour);
         document.says(AT, "if there is none, it stays", EditEdges::noneLeft);
         document.says(AT, "(All by RAW ahead of that.)", EditEdges::byRawAhead);
-        document.says(AT, "that which the PLACE sees is its RAW (behind MEND) made float", EditEdges::itsOwn);
-        document.says(AT, "the sum of RAW of all PLACES of the eight around it that see that COLOUR) / how many these are",
-            EditEdges::around);
+        document.says(AT, "Then COLOURS are made whole: that which the PLACE sees is its RAW (behind MEND) made float",
+            EditEdges::itsOwn);
+        document.says(AT, "each other COLOUR: (float) (the sum of RAW of all PLACES of the eight around it that see that COLOUR)"
+            + " / how many these are", EditEdges::around);
         document.says(AT, "how many these are (RAW behind MEND)", EditEdges::aroundBehindMend);
+        document.says(AT, "Then EDIT by EDIT", EditEdges::editByEdit);
         document.says(AT, "BLACK n: each number less n", EditEdges::black);
         document.says(AT, "0f at least", EditEdges::blackAtLeast);
         document.says(AT, "WARM n: RED times (n / 4f)", () -> warmOrCool(1, 0));
@@ -104,6 +108,67 @@ final class EditEdges {
         Checks.same("mapped behind the edit", camera.picture(0, 2, 2, 0), 0.0);
         camera.map(2, 2, false);
         Checks.same("not any more", camera.picture(0, 2, 2, 0), 255.0);
+    }
+
+    private static double[] numbersOf(Camera camera, int frame) {
+        double[] numbers = new double[192];
+        for (int k = 0; k < 192; k++) {
+            numbers[k] = camera.picture(frame, k / 3 % 8, k / 24, k % 3);
+        }
+        return numbers;
+    }
+
+    private static void threeFloats() {
+        for (int colour = 0; colour < 3; colour++) {
+            Camera camera = new Camera();
+            Cameras.takeColours(camera, colour == 0, colour == 1, colour == 2);
+            double[] numbers = numbersOf(camera, 0);
+            for (int k = 0; k < 192; k++) {
+                Checks.same("number " + k + " of colour " + colour + " alone", numbers[k], k % 3 == colour ? 255.0 : 0.0);
+            }
+        }
+        for (int frame = 0; frame < 6; frame++) {
+            for (double number : numbersOf(Cameras.crowded(), frame)) {
+                boolean isHeld = number >= 0.0 && number <= 255.0;
+                Checks.same(number + " is a float of 0 to 255", isHeld && number == (float) number, true);
+            }
+        }
+    }
+
+    private static void firstOnRaw() {
+        // Mended by 200, 255, 0 and 0 it is 113: behind the other edits it would be of what these leave.
+        int[][] others = {{0, 10}, {1, 2}, {3, 0}, {3, 2}};
+        double[] due = {103.0, 56.5, 56.5, 142.0};
+        for (int k = 0; k < others.length; k++) {
+            for (int ahead = 0; ahead < 2; ahead++) {
+                Camera camera = Cameras.withRaw(2, 2, 77, 0, 2, 200, 4, 2, 255);
+                camera.map(2, 2, true);
+                int[][] told = ahead == 0 ? new int[][] {others[k], {5, 0}} : new int[][] {{5, 0}, others[k]};
+                camera.edit(0, told[0][0], told[0][1]);
+                camera.edit(0, told[1][0], told[1][1]);
+                Checks.same("a mend and kind " + others[k][0] + ", " + ahead, camera.picture(0, 2, 2, 0), due[k]);
+                Checks.same("RAW stays", camera.raw(0, 2, 2), 77);
+            }
+        }
+    }
+
+    private static void editByEdit() {
+        Camera camera = Cameras.withRaw(0, 0, 200, 1, 0, 90, 2, 3, 180, 3, 3, 254, 5, 4, 60, 6, 6, 40, 7, 7, 33);
+        double[] due = numbersOf(camera, 0);
+        camera.edit(0, 0, 9);
+        camera.edit(0, 3, 0);
+        camera.edit(0, 1, 3);
+        camera.edit(0, 4, 0);
+        camera.edit(0, 2, 7);
+        camera.edit(0, 3, 2);
+        double[] got = numbersOf(camera, 0);
+        for (int k = 0; k < 192; k++) {
+            int from = k + 3 * (7 - 2 * (k / 3 % 8));
+            float number = Math.max(0f, (float) due[from] - 9f) * 0.5f;
+            number = k % 3 == 0 ? number * 0.75f : number;
+            number = 255f - (k % 3 == 2 ? number * 1.75f : number);
+            Checks.same("number " + k, got[k], (double) number);
+        }
     }
 
     private static void mendAmongEdits() {

@@ -1,10 +1,15 @@
+import java.io.IOException;
 import java.lang.reflect.Constructor;
 import java.lang.reflect.Field;
 import java.lang.reflect.Method;
 import java.lang.reflect.Modifier;
+import java.nio.file.Files;
+import java.nio.file.Path;
 import java.util.Arrays;
 import java.util.Set;
 import java.util.TreeSet;
+import java.util.regex.Matcher;
+import java.util.regex.Pattern;
 import java.util.stream.Collectors;
 
 /** The class shows just the document's face. */
@@ -36,7 +41,7 @@ public final class FaceTest {
         "long digest()",
     };
 
-    public static void main(String[] args) {
+    public static void main(String[] args) throws IOException {
         Class<?> face = BayerGate.class;
         Checks.same("the class is public and final", face.getModifiers(), Modifier.PUBLIC | Modifier.FINAL);
         Set<String> shown = new TreeSet<>();
@@ -57,6 +62,7 @@ public final class FaceTest {
         Constructor<?>[] constructors = face.getDeclaredConstructors();
         Checks.same("constructors", constructors.length, 1);
         Checks.same("constructor", constructors[0].toString(), "public BayerGate()");
+        Checks.same("the document's face", faceOf(Files.readString(Path.of(args[1]))), new TreeSet<>(Arrays.asList(FACE)));
         fieldsOf(face);
         for (Class<?> inside : face.getDeclaredClasses()) {
             Checks.same("static " + inside, Modifier.isStatic(inside.getModifiers()), true);
@@ -64,6 +70,19 @@ public final class FaceTest {
             fieldsOf(inside);
         }
         Checks.end();
+    }
+
+    /** The calls as the document's "The public face" tells them, in the words of FACE. */
+    private static Set<String> faceOf(String document) {
+        Set<String> told = new TreeSet<>();
+        Matcher line = Pattern.compile("(?m)^    public (\\w+ \\w+)\\((.*)\\)(?: throws (.*))?;$").matcher(document);
+        while (line.find()) {
+            String takes = line.group(2).replaceAll("(\\w+) \\w+", "$1");
+            String thrown = line.group(3) == null ? "" : ", " + line.group(3);
+            told.add(line.group(1) + "(" + takes + ")" + thrown.replace(", IndexOutOfBoundsException", " INDEX")
+                .replace(", IllegalArgumentException", " ARGUMENT").replace(", IllegalStateException", " STATE"));
+        }
+        return told;
     }
 
     private static void fieldsOf(Class<?> type) {

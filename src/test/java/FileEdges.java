@@ -10,6 +10,7 @@ final class FileEdges {
 
     static void tell(Document document) {
         document.says(AT, "To MERGE a set of FRAMES (2 at least)", FileEdges::twoAtLeast);
+        document.says(AT, "a new FRAME", FileEdges::newFrame);
         document.says(AT, "with the TIME and GAIN of the one with the smallest number", FileEdges::timeAndGain);
         document.says(AT, "and without EDITS", FileEdges::withoutEdits);
         document.says(AT, "in each PLACE the mean (whole) of RAW", FileEdges::meanIsWhole);
@@ -24,6 +25,14 @@ final class FileEdges {
         document.says(AT, "later EDITS do not change it", FileEdges::laterEdits);
         document.says(AT, "A method that throws an exception changes nothing.", FileEdges::changesNothing);
         document.says(AT, "If several exceptions apply, the one that is named first is thrown.", FileEdges::namedFirst);
+        document.says(AT, "Ahead of the calls `paint`, `lamp`, `spoil`, `map` the interface says: ---- what is told.",
+            FileEdges::whatIsTold);
+        document.says(AT, "Ahead of the calls `take`, `merge`, `edit`, `undo`, `save` the interface says: ---- frames and edits.",
+            FileEdges::framesAndEdits);
+        document.says(AT, "Ahead of the calls `raw`, `picture`, `word`, `ofFrame`, `ofEdit`, `zone`, `meter`, `ofFile`,"
+            + " `ofPlace`, `many`, `apart` the interface says: ---- what one asks.", FileEdges::whatOneAsks);
+        document.says(AT, "Ahead of the calls `wouldClip`, `bestTake`, `bestWhite`, `digest` the interface says: ---- what would"
+            + " be (nothing is changed).", FileEdges::whatWouldBe);
     }
 
     private static void twoAtLeast() {
@@ -37,6 +46,26 @@ final class FileEdges {
         for (int set : new int[] {3, 5, 9, 17, 24, 7, 15, 30, 31}) {
             Checks.same("two at least, " + set, camera.copy().merge(set, 9), 5);
         }
+    }
+
+    private static void newFrame() {
+        Camera camera = Cameras.withRaw(0, 0, 100, 7, 7, 20);
+        Cameras.takeRaw(camera, 0, 0, 150, 7, 7, 255);
+        Checks.same("its number", camera.merge(3, 255), 2);
+        Checks.same("how many there are", camera.many(0), 3);
+        int[][] due = {{100, 20}, {150, 255}, {125, 137}};
+        for (int frame = 0; frame < 3; frame++) {
+            Checks.same("the first place of " + frame, camera.raw(frame, 0, 0), due[frame][0]);
+            Checks.same("the last place of " + frame, camera.raw(frame, 7, 7), due[frame][1]);
+        }
+        camera.edit(2, 3, 2);
+        Checks.same("an edit of it", camera.picture(2, 0, 0, 0), 130.0);
+        Checks.same("is none of the first", camera.picture(0, 0, 0, 0), 100.0);
+        camera.save(2);
+        Checks.same("a file of it", camera.ofFrame(2, 8), 1);
+        Checks.same("is none of the second", camera.ofFrame(1, 8), 0);
+        Checks.same("merged once more, with it", camera.merge(4 + 1, 255), 3);
+        Checks.same("by its RAW, not its PICTURE", camera.raw(3, 0, 0), 112);
     }
 
     private static void timeAndGain() {
@@ -274,6 +303,42 @@ final class FileEdges {
         }
         none(Cameras.crowded(), "state", STATE, c -> c.take(1, 1), c -> c.merge(63, 0), c -> c.edit(0, 4, 0),
             c -> c.edit(5, 0, 64), c -> c.save(0), c -> c.save(5));
+    }
+
+    /** Each of these calls leaves something else to be asked than there was. */
+    private static void changes(Camera camera, Camera.Deed... deeds) {
+        String before = Checks.stateBehind(camera, c -> null);
+        for (int k = 0; k < deeds.length; k++) {
+            Checks.same("call " + k + " changes something", Checks.stateBehind(camera, deeds[k]).equals(before), false);
+        }
+    }
+
+    private static void whatIsTold() {
+        changes(Cameras.rich(), c -> c.paint(7, 7, 7, 7, 1), c -> c.lamp(5, 7, 7), c -> c.lamp(4, 6, 7), c -> c.lamp(5, 6, 8),
+            c -> c.spoil(7, 7, 2), c -> c.spoil(4, 4, 0), c -> c.map(7, 7, true), c -> c.map(4, 4, false));
+    }
+
+    private static void framesAndEdits() {
+        changes(Cameras.rich(), c -> c.take(1, 1), c -> c.merge(6, 9), c -> c.edit(1, 5, 0), c -> c.undo(0), c -> c.save(1));
+    }
+
+    private static void asks(Camera.Deed... deeds) {
+        for (Camera camera : new Camera[] {Cameras.rich(), Cameras.crowded()}) {
+            for (int k = 0; k < deeds.length; k++) {
+                Checks.keeps(camera, "call " + k, deeds[k]);
+            }
+        }
+    }
+
+    private static void whatOneAsks() {
+        asks(c -> c.raw(0, 4, 4), c -> c.picture(0, 4, 4, 0), c -> c.word(0), c -> c.ofFrame(0, 5), c -> c.ofFrame(2, 8),
+            c -> c.ofEdit(0, 1, 1), c -> c.zone(0, 3), c -> c.meter(1), c -> c.ofFile(1, 3), c -> c.ofFile(2, 1),
+            c -> c.ofPlace(4, 4, 4), c -> c.many(3), c -> c.apart(0, 2), c -> c.apart(1, 1));
+    }
+
+    private static void whatWouldBe() {
+        asks(c -> c.wouldClip(64, 8), c -> c.wouldClip(1, 1), c -> c.bestTake(0), c -> c.bestTake(255), c -> c.bestWhite(0, 1),
+            c -> c.bestWhite(2, 2), Camera::digest);
     }
 
     private static void namedFirst() {

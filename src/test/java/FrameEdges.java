@@ -10,23 +10,23 @@ final class FrameEdges {
     static void tell(Document document) {
         String at = "Promise 6: take";
         document.says(at, "Returns its number.", FrameEdges::takeNumber);
-        document.says(at, "if time is not 1 to 64", FrameEdges::takeTimes);
-        document.says(at, "gain not 1 to 8", FrameEdges::takeGains);
+        document.says(at, "Throws `IllegalArgumentException` if time is not 1 to 64", FrameEdges::takeTimes);
+        document.says(at, "or gain not 1 to 8", FrameEdges::takeGains);
         document.says(at, "Throws `IllegalStateException` if there are 6", FrameEdges::takeTheSeventh);
         at = "Promise 7: merge";
         document.says(at, "- `frames`: the set of FRAMES (the sum of 2^k)", FrameEdges::mergeSet);
         document.says(at, "Returns the number of the new one.", FrameEdges::mergeNumber);
-        document.says(at, "if frames has one that there is not", FrameEdges::mergeOneThatIsNot);
+        document.says(at, "Throws `IllegalArgumentException` if frames has one that there is not", FrameEdges::mergeOneThatIsNot);
         document.says(at, "or less than two", FrameEdges::mergeLessThanTwo);
-        document.says(at, "limit is not 0 to 255", FrameEdges::mergeLimits);
+        document.says(at, "or limit is not 0 to 255", FrameEdges::mergeLimits);
         document.says(at, "Throws `IllegalStateException` if there are 6", FrameEdges::mergeTheSeventh);
         at = "Promise 8: edit";
         document.says(at, "Tells an EDIT of a FRAME, behind the others.", FrameEdges::editBehind);
         document.says(at, "Returns how many it has then.", FrameEdges::editMany);
         document.says(at, NO_FRAME, () -> Checks.frames("edit", (c, v) -> c.edit(v, 4, 0)));
-        document.says(at, "if kind is not 0 to 5",
+        document.says(at, "Throws `IllegalArgumentException` if kind is not 0 to 5",
             () -> Checks.range(Cameras.rich(), "kind", 0, 5, ARGUMENT, (c, v) -> c.edit(1, v, v == 1 || v == 2 ? 1 : 0)));
-        document.says(at, "number not in the range of that", FrameEdges::editNumbers);
+        document.says(at, "or number not in the range of that", FrameEdges::editNumbers);
         document.says(at, "Throws `IllegalStateException` if it has 6", FrameEdges::editTheSeventh);
         at = "Promise 9: undo";
         document.says(at, "Takes back the latest EDIT of a FRAME.", FrameEdges::undoLatest);

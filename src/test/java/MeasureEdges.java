@@ -7,15 +7,15 @@ final class MeasureEdges {
 
     static void tell(Document document) {
         document.says(AT, "ZONES 0 to 3: x / 4, and 2 times (y / 4).", MeasureEdges::zones);
-        document.says(AT, "the sum of RAW of its GREEN PLACES / 8.0", MeasureEdges::means);
+        document.says(AT, "MEAN (double) of a ZONE of a FRAME: the sum of RAW of its GREEN PLACES / 8.0", MeasureEdges::means);
         document.says(AT, "The METER: the mean of MEANS of all ZONES", MeasureEdges::meter);
         document.says(AT, "ZONE by ZONE added (double), / 4.0", MeasureEdges::meterIsDouble);
-        document.says(AT, "the sum over all GREEN PLACES (x, y) with x and y below 7", MeasureEdges::sharp);
+        document.says(AT, "SHARP: the sum over all GREEN PLACES (x, y) with x and y below 7 of", MeasureEdges::sharp);
         document.says(AT, "the difference, without its sign", MeasureEdges::sharpWithoutSign);
         document.says(AT, "of RAW there and of RAW at (x + 1, y + 1)", MeasureEdges::sharpBound);
-        document.says(AT, "4 times the sum of RAW of all GREEN PLACES", () -> white(2, 2, 2));
+        document.says(AT, "WHITE of a FRAME: 4 times the sum of RAW of all GREEN PLACES", () -> white(2, 2, 2));
         document.says(AT, "divided by 2 times the sum of those of a COLOUR (RED or BLUE) (whole)", MeasureEdges::whiteIsWhole);
-        document.says(AT, "1 at least", MeasureEdges::whiteAtLeast);
+        document.says(AT, "1 at least and", MeasureEdges::whiteAtLeast);
         document.says(AT, "16 at most", MeasureEdges::whiteAtMost);
         document.says(AT, "16, if that sum is 0", MeasureEdges::whiteOfNothing);
     }

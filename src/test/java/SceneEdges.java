@@ -9,13 +9,15 @@ final class SceneEdges {
         document.says("What it is", "An object is used for at most 512 calls after it has been made", SceneEdges::calls);
         document.says("Terms", "Whole numbers are divided rounding down.", SceneEdges::roundingDown);
         document.says("Terms", "Where float or double is told, numbers are reckoned in that", SceneEdges::inFloat);
-        document.says("Terms", "just in the order that is told", SceneEdges::inOrder);
+        document.says("Terms", "just in the order that is told (as Java does)", SceneEdges::inOrder);
         document.says("Terms", "NONE is -1.", SceneEdges::none);
         document.says(AT, "There are 8 by 8 PLACES (x, y), each x and y of 0 to 7.", SceneEdges::places);
-        document.says(AT, "a RED, a GREEN and a BLUE (0 to 255", SceneEdges::shades);
-        document.says(AT, "0 at first). The LAMP", SceneEdges::darkAtFirst);
+        document.says(AT, "The SCENE has in each a RED, a GREEN and a BLUE (0 to 255", SceneEdges::shades);
+        document.says(AT, "0 at first).", SceneEdges::darkAtFirst);
+        document.says(AT, "The LAMP has a FACTOR (float) for each of these", SceneEdges::factorOfEach);
         document.says(AT, "told in quarters (1 to 16)", SceneEdges::quarters);
         document.says(AT, "1f at first", SceneEdges::lampAtFirst);
+        document.says(AT, "The SENSOR sees one COLOUR in each PLACE", SceneEdges::oneColour);
         document.says(AT, "0 RED, if x and y are even", () -> seen(0));
         document.says(AT, "2 BLUE, if both are odd", () -> seen(2));
         document.says(AT, "1 GREEN otherwise.", () -> seen(1));
@@ -23,12 +25,13 @@ final class SceneEdges {
         document.says(AT, "MAPPED are those of which the camera knows that they are not GOOD (told by hand", SceneEdges::byHand);
         document.says(AT, "it may be wrong)", SceneEdges::mappedWrongly);
         document.says(AT, "A FRAME is taken with a TIME (1 to 64)", SceneEdges::times);
-        document.says(AT, "a GAIN (1 to 8)", SceneEdges::gains);
+        document.says(AT, "and a GAIN (1 to 8)", SceneEdges::gains);
         document.says(AT, "PLACE by PLACE, y by y and in it x by x", SceneEdges::placeByPlace);
         document.says(AT, "the DRAW becomes (2 * DRAW + 5) modulo 61", SceneEdges::drawWraps);
         document.says(AT, "(0 at first", SceneEdges::drawAtFirst);
         document.says(AT, "one for all FRAMES)", SceneEdges::drawOfAll);
-        document.says(AT, "LIGHT (float) is (float) (the SCENE's COLOUR there) * its FACTOR * TIME / 16f", SceneEdges::light);
+        document.says(AT, "LIGHT (float) is (float) (the SCENE's COLOUR there) * its FACTOR * TIME / 16f (from the left on)",
+            SceneEdges::light);
         document.says(AT, "WELL is LIGHT made whole (cut)", SceneEdges::wellIsCut);
         document.says(AT, "255 at most", SceneEdges::wellAtMost);
         document.says(AT, "RAW is 16 + WELL * GAIN + (DRAW modulo 8) - 4", SceneEdges::rawOfTheDark);
@@ -130,6 +133,25 @@ final class SceneEdges {
         }
     }
 
+    private static void factorOfEach() {
+        int[] places = {0, 1, 9};
+        for (int colour = 0; colour < 3; colour++) {
+            for (int quarters = 1; quarters <= 16; quarters++) {
+                int[] lamp = {4, 4, 4};
+                lamp[colour] = quarters;
+                Camera camera = new Camera();
+                camera.paint(0, 0, 7, 7, 41 * (1 + 256 + 65536));
+                camera.lamp(lamp[0], lamp[1], lamp[2]);
+                camera.take(16, 1);
+                for (int k = 0; k < 3; k++) {
+                    int due = 12 + Cameras.drawBehind(places[k] + 1) % 8 + (int) (41f * (lamp[k] / 4f));
+                    Checks.same("colour " + k + ", factor " + quarters + " of " + colour,
+                        camera.raw(0, places[k] % 8, places[k] / 8), due);
+                }
+            }
+        }
+    }
+
     private static void quarters() {
         Camera camera = new Camera();
         camera.paint(0, 0, 7, 7, 40 * (1 + 256 + 65536));
@@ -159,6 +181,20 @@ final class SceneEdges {
         Checks.same("green at first", camera.raw(0, 1, 0), 112 + 7);
         Checks.same("blue at first", camera.raw(0, 1, 1), 112 + 4);
         Checks.same("quarters at first", camera.lamp(4, 4, 4), 4);
+    }
+
+    private static void oneColour() {
+        for (int dark = 0; dark < 3; dark++) {
+            Camera camera = new Camera();
+            camera.paint(0, 0, 7, 7, 200 * (1 + 256 + 65536) - (200 << 8 * dark));
+            camera.take(16, 1);
+            for (int place = 0; place < 64; place++) {
+                int x = place % 8;
+                int y = place / 8;
+                int light = camera.raw(0, x, y) - 12 - Cameras.drawBehind(place + 1) % 8;
+                Checks.same("without " + dark + ", light at " + place, light, x % 2 + y % 2 == dark ? 0 : 200);
+            }
+        }
     }
 
     private static void seen(int colour) {

@@ -14,9 +14,9 @@ final class ToldEdges {
         document.says(at, "- `colour`: RED, and 256 times GREEN, and 65536 times BLUE", ToldEdges::paintColour);
         document.says(at, "Returns how many PLACES were painted.", ToldEdges::paintMany);
         document.says(at, "Throws `IndexOutOfBoundsException` if one of x, y, toX and toY is not 0 to 7", ToldEdges::paintPlaces);
-        document.says(at, "if toX is less than x", ToldEdges::paintToX);
+        document.says(at, "Throws `IllegalArgumentException` if toX is less than x", ToldEdges::paintToX);
         document.says(at, "toY less than y", ToldEdges::paintToY);
-        document.says(at, "colour not 0 to 16777215", ToldEdges::paintColours);
+        document.says(at, "or colour not 0 to 16777215", ToldEdges::paintColours);
         at = "Promise 3: lamp";
         document.says(at, "Returns that of GREEN before, in quarters.", ToldEdges::lampBefore);
         document.says(at, "Throws `IllegalArgumentException` if one of these is not 1 to 16", ToldEdges::lampQuarters);

@@ -10,8 +10,8 @@ final class WouldBeEdges {
         String at = "Promise 22: wouldClip";
         document.says(at, "Returns how many PLACES would be CLIPPED in a FRAME that was taken so now", WouldBeEdges::clipsNow);
         document.says(at, "(also if there was no room for it)", WouldBeEdges::clipsWithoutRoom);
-        document.says(at, "if time is not 1 to 64", WouldBeEdges::clipTimes);
-        document.says(at, "gain not 1 to 8", WouldBeEdges::clipGains);
+        document.says(at, "Throws `IllegalArgumentException` if time is not 1 to 64", WouldBeEdges::clipTimes);
+        document.says(at, "or gain not 1 to 8", WouldBeEdges::clipGains);
         at = "Promise 23: bestTake";
         document.says(at, "Returns 16 times TIME, and GAIN", WouldBeEdges::takeEnds);
         document.says(at, "of a FRAME taken now (likewise)", WouldBeEdges::takeNow);
@@ -26,15 +26,16 @@ final class WouldBeEdges {
         document.says(at, "Returns the number of such an EDIT", WouldBeEdges::whiteEnds);
         document.says(at, "told now", WouldBeEdges::whiteNow);
         document.says(at, "(also if there was no room for it)", WouldBeEdges::whiteWithoutRoom);
-        document.says(at, "behind which the sum of all GREEN TONES and that of all RED (BLUE) ones", WouldBeEdges::whiteTones);
+        document.says(at, "behind which the sum of all GREEN TONES and that of all RED (BLUE) ones of its PICTURE",
+            WouldBeEdges::whiteTones);
         document.says(at, "would be nearest to each other", WouldBeEdges::whiteNearest);
         document.says(at, "of several the smallest", WouldBeEdges::whiteSmallest);
         document.says(at, "Throws `IndexOutOfBoundsException` if there is no such FRAME", WouldBeEdges::whiteFrames);
         document.says(at, "Throws `IllegalArgumentException` if kind is not 1 or 2", WouldBeEdges::whiteOtherKinds);
         at = "Promise 25: digest";
         document.says(at, "A number d starts with 9602", WouldBeEdges::digestStart);
-        document.says(at, "d * 31 + v, which wraps around as a 64-bit integer", WouldBeEdges::digestWraps);
-        document.says(at, "many() of 0 to 6", WouldBeEdges::digestMany);
+        document.says(at, "then d becomes d * 31 + v, which wraps around as a 64-bit integer", WouldBeEdges::digestWraps);
+        document.says(at, "for each v in this order: many() of 0 to 6", WouldBeEdges::digestMany);
         document.says(at, "FRAME by FRAME ofFrame() of 0 to 8, word()", WouldBeEdges::digestFrames);
         document.says(at, "METER times 32, cut to a whole number", WouldBeEdges::digestMeter);
         document.says(at, "RAW y by y, x by x", WouldBeEdges::digestRaw);
