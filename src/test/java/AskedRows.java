@@ -349,28 +349,42 @@ final class AskedRows {
         }
     }
 
-    private static void clipTime() {
-        // Of 255 and a FACTOR of 4, 63.75 times TIME: from 4 on it is clipped; a green of 60 from 61 on.
+    /** What the dark gives in a place of a first frame. */
+    private static int dark(int place) {
+        return 12 + Cameras.drawBehind(place + 1) % 8;
+    }
+
+    /** One place is clipped from each TIME on: by the least colour that gives light enough at that time. */
+    private static void clipTimes(int quarters, int gain, int from, int to) {
         Camera camera = new Camera();
-        camera.lamp(16, 4, 4);
-        camera.paint(0, 0, 0, 0, 255);
-        camera.paint(1, 0, 1, 0, 256 * 62);
+        camera.lamp(quarters, quarters, quarters);
+        for (int time = from; time <= to; time++) {
+            int place = time - from;
+            int well = (255 - dark(place) + gain - 1) / gain;
+            int parts = quarters * time;
+            camera.paint(place % 8, place / 8, place % 8, place / 8, (64 * well + parts - 1) / parts * GREY);
+        }
         for (int time = 1; time <= 64; time++) {
-            int due = (time >= 4 ? 1 : 0) + (62 * time / 16 + 19 >= 255 ? 1 : 0);
-            Checks.same("time " + time, camera.wouldClip(time, 1), due);
+            Checks.same("time " + time + " by gain " + gain, camera.wouldClip(time, gain),
+                Math.max(0, Math.min(time, to) - from + 1));
         }
     }
 
+    private static void clipTime() {
+        clipTimes(2, 1, 31, 64);
+        clipTimes(8, 1, 8, 30);
+        clipTimes(16, 8, 1, 7);
+    }
+
+    /** One place is clipped from each GAIN on. */
     private static void clipGain() {
-        // By a TIME of 2 a red of 127, a green of 31 and a blue of 25, and what the dark gives.
         Camera camera = new Camera();
-        camera.lamp(16, 4, 4);
-        camera.paint(0, 0, 0, 0, 255);
-        camera.paint(1, 0, 1, 0, 256 * 255);
-        camera.paint(1, 1, 1, 1, 65536 * 200);
         for (int gain = 1; gain <= 8; gain++) {
-            int due = (127 * gain + 17 >= 255 ? 1 : 0) + (31 * gain + 19 >= 255 ? 1 : 0) + (25 * gain + 16 >= 255 ? 1 : 0);
-            Checks.same("gain " + gain, camera.wouldClip(2, gain), due);
+            int place = 9 * (gain - 1);
+            camera.paint(gain - 1, gain - 1, gain - 1, gain - 1, (255 - dark(place) + gain - 1) / gain * GREY);
+        }
+        for (int gain = 1; gain <= 8; gain++) {
+            Checks.same("gain " + gain, camera.wouldClip(16, gain), gain);
         }
     }
 

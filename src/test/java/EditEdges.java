@@ -286,6 +286,18 @@ final class EditEdges {
         }
         Checks.same("all are mapped", camera.picture(0, 0, 0, 0), 255.0);
         Checks.same("all are mapped, a dead one", camera.picture(0, 2, 2, 0), 0.0);
+        Camera each = new Camera();
+        for (int place = 0; place < 64; place++) {
+            each.paint(place % 8, place / 8, place % 8, place / 8, (3 * place + 1) * (1 + 256 + 65536));
+            each.map(place % 8, place / 8, true);
+        }
+        each.take(16, 1);
+        each.edit(0, 5, 0);
+        for (int place = 0; place < 64; place++) {
+            int x = place % 8;
+            int y = place / 8;
+            Checks.same("all are mapped, place " + place, each.picture(0, x, y, x % 2 + y % 2), (double) each.raw(0, x, y));
+        }
     }
 
     private static void byRawAhead() {

@@ -196,6 +196,16 @@ final class FileEdges {
         Cameras.takeHot(places, 0, 0);
         places.merge(7, 100);
         Checks.same("three and one", places.ofFrame(3, 4), 4);
+        places.merge(8 + 1, 100);
+        Checks.same("none of a merged one and the first", places.ofFrame(4, 4), 0);
+        places.merge(8 + 2, 100);
+        Checks.same("the second's three, with a merged one", places.ofFrame(5, 4), 3);
+        Camera again = Cameras.withHot(0, 0);
+        Cameras.takeHot(again);
+        again.merge(3, 100);
+        Cameras.takeHot(again, 5, 5, 6, 6);
+        again.merge(4 + 8, 100);
+        Checks.same("a merged one's own do not count again", again.ofFrame(4, 4), 3);
     }
 
     private static void sixFiles() {
